@@ -1,0 +1,300 @@
+/** Promises 21 to 26: what would be. */
+public final class WouldBeTest {
+    private static final Class<IndexOutOfBoundsException> INDEX = IndexOutOfBoundsException.class;
+
+    private WouldBeTest() {
+    }
+
+    public static void main(String[] args) {
+        promise21();
+        promise22();
+        promise23();
+        promise24();
+        promise25();
+        promise26OfNothing();
+        promise26();
+        nothingIsChanged();
+        Check.end("WouldBeTest");
+    }
+
+    private static void promise21() {
+        Turnwright x = new Turnwright();
+        x.word(0, 100, 10, 0, -1);
+        int[][] due = { // START, length, whether it fits
+            {0, 1, 1}, {0, 50, 1}, {20000, 50, 1}, {50, 50, 1}, {110, 1, 1}, {90, 10, 1},
+            {-1, 1, 0}, {20001, 1, 0}, {0, 0, 0}, {0, 51, 0}, {0, -1, 0}, {51, 50, 0}, {109, 1, 0}, {100, 1, 0},
+            {99, 2, 0}, {95, 30, 0}, {103, 2, 0}, {Integer.MAX_VALUE, 1, 0}, {Integer.MIN_VALUE, 50, 0},
+            {Integer.MAX_VALUE, Integer.MAX_VALUE, 0}, {5, Integer.MAX_VALUE, 0}, {5, Integer.MIN_VALUE, 0},
+        };
+        for (int[] row : due) {
+            Check.due("fits at " + row[0] + " for " + row[1], x.fits(0, row[0], row[1]), row[2] == 1);
+        }
+        Check.due("fits another", x.fits(1, 100, 10), true);
+        x.shift(0, 50);
+        Check.due("fits by the channel", x.fits(0, 150, 10), true);
+        Check.due("fits by the channel, shared", x.fits(0, 100, 10), false);
+        x.withdraw(0);
+        Check.due("withdrawn", x.fits(0, 500, 10), false);
+        Check.refuses("speaker 5", x, INDEX, () -> x.fits(5, 0, 1));
+        Check.refuses("speaker -1", x, INDEX, () -> x.fits(-1, -1, 0));
+        for (int word = 1; word < 120; word++) {
+            Check.due("room for word " + word, x.fits(2, word * 10, 5), true);
+            x.word(2, word * 10, 5, 0, -1);
+        }
+        Check.due("no room for word 120", x.fits(3, 0, 1), false);
+    }
+
+    private static void promise22() {
+        Turnwright x = new Turnwright();
+        x.word(4, 0, 5, 4, 1);
+        dueWouldCome("only a breath", x, -1, -1, -1, -1, -1);
+        x.word(0, 100, 5, 0, -1);
+        dueWouldCome("nobody is chosen", x, 1, 2, 2, 2, 2);
+        x.word(0, 106, 5, 0, 3);
+        dueWouldCome("D is chosen", x, 1, 3, 3, 0, 3);
+        x.word(1, 50, 5, 0, 4);
+        dueWouldCome("a turn ahead does not matter", x, 1, 3, 3, 0, 3);
+        x.withdraw(3);
+        dueWouldCome("D is withdrawn", x, 1, 3, 3, 0, 3);
+        x.withdraw(0);
+        dueWouldCome("A is withdrawn", x, 3, 1, 3, 3, 0);
+        Check.refuses("speaker 5", x, INDEX, () -> x.wouldCome(5));
+        Check.refuses("speaker -1", x, INDEX, () -> x.wouldCome(-1));
+    }
+
+    private static void dueWouldCome(String name, Turnwright x, int... due) {
+        for (int speaker = 0; speaker <= 4; speaker++) {
+            Check.due(name + ": " + speaker, x.wouldCome(speaker), due[speaker]);
+        }
+    }
+
+    private static void promise23() {
+        Turnwright x = new Turnwright();
+        x.word(0, 0, 5, 0, -1);
+        dueBestRest("one word", x, 1, 1);
+        x.word(0, 7, 5, 0, -1);
+        dueBestRest("2 apart", x, 1, 2);
+        x.rest(30);
+        dueBestRest("whatever the rest is now", x, 1, 2);
+        Turnwright y = new Turnwright();
+        y.word(0, 0, 5, 3, -1);
+        dueBestRest("a laugh", y, 1, 0);
+        y.word(0, 35, 5, 0, -1);
+        dueBestRest("a laugh 30 ahead of a word", y, 1, 1);
+        bestRestThatIsLonger();
+    }
+
+    /** Two words within the talk of another are signs, and three that become one STRETCH are a TURN. */
+    private static void bestRestThatIsLonger() {
+        Turnwright x = new Turnwright();
+        for (int word = 0; word < 3; word++) {
+            x.word(0, 100 + word * 50, 50, 0, -1);
+        }
+        x.word(1, 110, 5, 0, -1);
+        x.word(1, 122, 5, 0, -1);
+        x.word(1, 132, 5, 0, -1);
+        dueBestRest("7 and 5 apart", x, 7, 2);
+        x.word(2, 160, 5, 0, -1);
+        x.word(2, 195, 5, 0, -1);
+        x.word(2, 230, 5, 0, -1);
+        dueBestRest("30 apart, too", x, 30, 3);
+        x.withdraw(2);
+        dueBestRest("without those", x, 7, 2);
+    }
+
+    private static void dueBestRest(String name, Turnwright x, int rest, int many) {
+        Check.due(name + ": best rest", x.bestRest(false), rest);
+        Check.due(name + ": turns by it", x.bestRest(true), many);
+    }
+
+    private static void promise24() {
+        dueBestShift("a gap", 110, 115, -5);
+        dueBestShift("an overlap", 110, 107, 3);
+        dueBestShift("a latch", 110, 110, 0);
+        dueBestShift("the last one ahead", 110, 130, -20);
+        dueBestShift("too far ahead", 110, 131, -20);
+        dueBestShift("the last one behind", 110, 90, 20);
+        Turnwright none = new Turnwright();
+        none.word(0, 0, 5, 0, -1);
+        Check.due("one turn", none.bestShift(0), 0);
+        Check.due("no words", none.bestShift(4), 0);
+        Turnwright own = new Turnwright();
+        own.word(1, 100, 10, 0, -1);
+        own.word(1, 200, 10, 0, -1);
+        Check.due("pauses do not matter", own.bestShift(1), 0);
+
+        Turnwright x = new Turnwright();
+        x.word(0, 100, 10, 0, -1);
+        x.word(1, 150, 10, 0, -1);
+        Check.due("as far as can be", x.bestShift(1), -20);
+        x.withdraw(1);
+        Check.due("withdrawn", x.bestShift(1), 0);
+        bestShiftOfSeveral();
+        Check.refuses("speaker 5", x, INDEX, () -> x.bestShift(5));
+        Check.refuses("speaker -1", x, INDEX, () -> x.bestShift(-1));
+    }
+
+    private static void dueBestShift(String name, int end, int start, int due) {
+        Turnwright x = new Turnwright();
+        x.word(0, end - 10, 10, 0, -1);
+        x.word(1, start, 50, 0, -1);
+        Check.due(name, x.bestShift(1), due);
+        x.shift(1, -7);
+        Check.due(name + ", in place of the shift now", x.bestShift(1), due);
+        x.shift(1, 0);
+        Check.due(name + ", by moving the other one", x.bestShift(0), -due);
+    }
+
+    private static void bestShiftOfSeveral() {
+        // A ends at 110, C starts at 124: with B from 108 to 118 and a shift of s, OFF is s - 2 and 6 - s.
+        Check.due("the smallest of 2 to 6", shiftBetween(108), 2);
+        Check.due("the smallest of -4 to 0", shiftBetween(114), 0);
+        Check.due("the smallest of -2 to 2", shiftBetween(112), 0);
+        Check.due("the smallest of -6 to -2", shiftBetween(116), -2);
+        Turnwright y = new Turnwright();
+        y.word(0, 100, 3, 0, -1);
+        y.word(1, 101, 1, 0, -1);
+        // B ahead of A: OFF of A is 100 - (102 + s), 0 by -2; B behind A: OFF is 101 + s - 103, 0 by 2.
+        Check.due("of -2 and 2 the one below 0", y.bestShift(1), -2);
+        y.shift(0, 1);
+        Check.due("of -1 and 3 the smaller one", y.bestShift(1), -1);
+        y.shift(0, -1);
+        Check.due("of -3 and 1 the smaller one", y.bestShift(1), 1);
+    }
+
+    private static int shiftBetween(int start) {
+        Turnwright x = new Turnwright();
+        x.word(0, 100, 10, 0, -1);
+        x.word(1, start, 10, 0, -1);
+        x.word(2, 124, 10, 0, -1);
+        return x.bestShift(1);
+    }
+
+    private static void promise25() {
+        Turnwright x = new Turnwright();
+        Check.due("sound as new", x.isSound(), true);
+        int[][] words = {{0, 0, 10, 5, 1}, {1, 12, 5, 6, -1}, {0, 30, 5, 0, -1}, {1, 33, 9, 1, 2}, {2, 60, 5, 3, -1},
+            {3, 90, 5, 2, -1}, {3, 95, 5, 2, -1}, {3, 105, 20, 0, 1}, {4, 100, 3, 0, -1}, {1, 300, 5, 5, -1}, {2, 400, 5, 0, -1}};
+        for (int[] word : words) {
+            x.word(word[0], word[1], word[2], word[3], word[4]);
+            Check.due("sound with a word more", x.isSound(), true);
+        }
+        for (int shift = -100; shift <= 100; shift += 10) {
+            x.shift(1, shift);
+            Check.due("sound by a shift", x.isSound(), true);
+        }
+        x.shift(1, 0);
+        for (int rest = 1; rest <= 30; rest++) {
+            x.rest(rest);
+            Check.due("sound by a rest", x.isSound(), true);
+        }
+        for (int speaker = 0; speaker <= 4; speaker++) {
+            x.withdraw(speaker);
+            Check.due("sound without one more", x.isSound(), true);
+        }
+    }
+
+    private static void promise26OfNothing() {
+        long d = 4111;
+        for (int what = 0; what <= 21; what++) {
+            d = d * 31 + (what == 20 ? 10 : 0);
+        }
+        for (int speaker = 0; speaker <= 4; speaker++) {
+            d = d * 31 + 0;
+            d = d * 31 - 1;
+            d = d * 31 + 0;
+            for (int value = 0; value < 12; value++) {
+                d = d * 31;
+            }
+        }
+        long[] end = {0, 0, 1, 0, 64, 1};
+        for (long value : end) {
+            d = d * 31 + value;
+        }
+        Check.due("digest of nothing", new Turnwright().digest(), d);
+    }
+
+    private static void promise26() {
+        Turnwright x = new Turnwright();
+        x.word(0, 0, 10, 5, 1);
+        dueDigest("a question", x);
+        x.word(1, 14, 5, 2, -1);
+        x.word(1, 20, 5, 1, 3);
+        x.word(2, 23, 5, 3, -1);
+        x.word(2, 29, 9, 6, -1);
+        x.word(3, 45, 5, 0, -1);
+        x.word(0, 60, 5, 0, -1);
+        dueDigest("more", x);
+        x.code(0, 0, 1);
+        x.code(1, 0, 2);
+        x.code(0, 1, 2);
+        x.code(1, 1, 1);
+        dueDigest("an agreement below 0", x);
+        x.code(1, 1, 2);
+        x.code(0, 2, 4);
+        x.code(1, 2, 0);
+        dueDigest("an agreement that is cut", x);
+        x.cite(2);
+        x.cite(0);
+        x.call();
+        x.shift(2, -40);
+        dueDigest("cites", x);
+        x.withdraw(0);
+        dueDigest("one withdrawn", x);
+        x.rest(30);
+        dueDigest("a rest", x);
+    }
+
+    private static void dueDigest(String name, Turnwright x) {
+        long d = 4111;
+        for (int what = 0; what <= 21; what++) {
+            d = d * 31 + x.talk(what);
+        }
+        for (int word = 0; word < x.talk(0); word++) {
+            d = ((d * 31 + x.ofWord(word, 1)) * 31 + x.ofWord(word, 5)) * 31 + x.ofWord(word, 6);
+            d = d * 31 + x.ofWord(word, 7);
+        }
+        for (int turn = 0; turn < x.talk(3); turn++) {
+            for (int what = 0; what <= 15; what++) {
+                d = d * 31 + x.ofTurn(turn, what);
+            }
+            for (int what = 0; what <= 2; what++) {
+                d = d * 31 + x.ofQuestion(turn, what);
+            }
+        }
+        for (int one = 0; one <= 4; one++) {
+            d = ((d * 31 + x.said(one)) * 31 + x.wouldCome(one)) * 31 + x.bestShift(one);
+            for (int two = 0; two <= 4; two++) {
+                for (int what = 0; one != two && what <= 2; what++) {
+                    d = d * 31 + x.between(one, two, what);
+                }
+            }
+        }
+        d = (d * 31 + x.test(false)) * 31 + x.test(true);
+        for (int cite = 0; cite < x.talk(19); cite++) {
+            d = d * 31 + x.cited(cite);
+        }
+        d = (d * 31 + x.bestRest(false)) * 31 + x.bestRest(true);
+        d = d * 31 + (long) (64 * x.agreement());
+        d = d * 31 + (x.isSound() ? 1 : 0);
+        Check.due("digest, " + name, x.digest(), d);
+    }
+
+    private static void nothingIsChanged() {
+        Turnwright x = new Turnwright();
+        x.word(0, 0, 10, 5, 1);
+        x.word(0, 12, 10, 0, -1);
+        x.word(1, 14, 5, 0, -1);
+        x.word(1, 40, 5, 1, -1);
+        x.shift(1, 9);
+        x.rest(7);
+        String before = Check.state(x);
+        for (int speaker = 0; speaker <= 4; speaker++) {
+            x.fits(speaker, 100, 10);
+            x.wouldCome(speaker);
+            x.bestShift(speaker);
+            x.bestRest(speaker == 0);
+            Check.due("what would be changes nothing", Check.state(x), before);
+        }
+    }
+}

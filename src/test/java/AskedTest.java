@@ -20,6 +20,7 @@ public final class AskedTest {
         promise11Heap();
         promise11WhoAnswers();
         promise11Late();
+        fullOfTurns();
         promise12();
         promise12Self();
         promise12Other();
@@ -336,6 +337,40 @@ public final class AskedTest {
         dueQuestion("late on top", below, 1, -1, -1, 0);
         Check.due("late on top: nothing else is looked at", below.ofTurn(2, 13), -1);
         dueQuestion("in time below", below, 0, 3, 1, 1);
+        below.withdraw(3);
+        dueQuestion("its answer is withdrawn", below, 0, -1, -1, 0);
+        Check.due("unanswered ones", below.talk(14), 2);
+    }
+
+    /** As many TURNS as can be: A asks and B answers, 12 by 12, sixty times. */
+    private static void fullOfTurns() {
+        Turnwright x = new Turnwright();
+        for (int word = 0; word < 120; word++) {
+            x.word(word % 2, word * 12, 10, word % 2 == 0 ? 5 : 2, 1 - word % 2);
+        }
+        dueTalk("full", x, 120, 120, 120, 120, 0, 0, 0, 0, 119, 0, 0, 0, 0, 60, 0, 0, 0, 0, 0, 0, 10, 0);
+        dueTurn("full", x, 119, 0, 1, 1428, 1438, 1, 119, 0, 0, 2, 2, 0, 0, 0, 0, 118, -1, -1);
+        dueQuestion("full", x, 118, 119, 0, 0);
+        dueBetween(x, 0, 1, 60, 120, 0, 2.0);
+        dueBetween(x, 1, 0, 59, 118, 0, 2.0);
+        Check.due("full: test", x.test(false), 119);
+        Check.due("full: shuffled", x.test(true), 0);
+        Check.due("full: row", x.row(119), "119 B: -");
+        Check.due("full: talk of A", x.said(0), 600);
+        Check.due("full: chosen next", x.wouldCome(0), 0);
+        Check.due("full: going on next", x.wouldCome(1), 1);
+        Check.due("full: best rest", x.bestRest(false), 1);
+        Check.due("full: many", x.bestRest(true), 120);
+        Check.due("full: sound", x.isSound(), true);
+        x.withdraw(1);
+        dueBetween(x, 0, 1, 0, 0, 0, 0.0);
+        dueTalk("half", x, 120, 60, 60, 60, 0, 0, 59, 0, 0, 0, 0, 0, 0, 60, 60, 0, 0, 0, 0, 0, 10, 0);
+        Check.due("half: test", x.test(false), 0);
+        Check.due("half: row", x.row(59), "59 A: ?");
+        x.rest(30);
+        dueTalk("one", x, 120, 60, 1, 1, 0, 0, 0, 0, 0, 0, 0, 0, 0, 1, 1, 0, 0, 0, 0, 0, 30, 0);
+        dueTurn("one", x, 0, 0, 0, 0, 1426, 60, 0, 1, 1, 0, -1, 0, -1, 0, 0, -1, -1, -1);
+        Check.due("one: length of its row", x.row(0).length(), 5 + 60 + 59 * 3);
     }
 
     private static void promise12() {
@@ -381,6 +416,9 @@ public final class AskedTest {
         dueSelf(2, 0, 2, 6, 2, 4);
         Turnwright apart = of(w(0, 0, 5, 2, -1), w(0, 16, 5, 0, -1));
         Check.due("a repair in another stretch", apart.talk(15), 0);
+        Turnwright next = of(w(0, 0, 5, 2, -1), w(0, 6, 5, 3, -1), w(0, 22, 5, 0, -1));
+        Check.due("a repair", next.talk(15), 1);
+        Check.due("mended in another stretch", next.talk(16), 0);
         Turnwright sign = of(w(0, 100, 10, 0, -1), w(0, 110, 10, 0, -1), w(0, 120, 10, 0, -1),
                 w(1, 102, 2, 2, -1), w(1, 105, 2, 0, -1));
         Check.due("there is a sign", sign.talk(4), 1);
@@ -443,6 +481,10 @@ public final class AskedTest {
         dueBetween(x, 0, 1, 2, -2, 1, -1.0);
         x.withdraw(2);
         dueBetween(x, 0, 1, 3, 12, 1, 4.0);
+        Turnwright gone = of(w(0, 0, 10, 0, -1), w(1, 12, 3, 0, -1), w(0, 30, 4, 0, -1), w(1, 36, 7, 0, -1));
+        gone.withdraw(1);
+        dueBetween(gone, 0, 1, 0, 0, 0, 0.0);
+        Check.due("test of what is left", gone.test(false), 0);
         int[][] outside = {{-1, 0}, {0, -1}, {5, 0}, {0, 5}, {5, 5}, {-1, -1}};
         for (int[] pair : outside) {
             Check.refuses("between " + pair[0] + " " + pair[1], x, INDEX, () -> x.between(pair[0], pair[1], 0));
@@ -578,6 +620,15 @@ public final class AskedTest {
         x.word(4, 40, 2, 1, -1);
         Check.due("a pause", x.row(1), "1 E: -");
         Check.due("behind a pause", x.row(2), "2 E: .");
+        x.withdraw(0);
+        Check.due("the first row now", x.row(0), "0 E: -");
+        x.withdraw(4);
+        Check.refuses("no row left", x, INDEX, () -> x.row(0));
+        Check.due("a gap behind the first word", of(w(3, 0, 5, 1, -1), w(3, 7, 5, 0, -1)).row(0), "0 D: .__o");
+        Turnwright fewer = of(w(0, 0, 5, 0, -1), w(1, 5, 9, 0, -1), w(2, 8, 9, 0, -1));
+        Check.due("ahead of an overlap", fewer.row(1), "1 B: o]");
+        fewer.withdraw(2);
+        Check.due("the overlap is gone", fewer.row(1), "1 B: o");
         Turnwright many = new Turnwright();
         for (int turn = 0; turn < 101; turn++) {
             many.word(turn % 5, turn * 12, 5, 0, -1);
@@ -587,7 +638,7 @@ public final class AskedTest {
         Check.due("row 12", many.row(12), "12 C: o");
         Check.due("row 13", many.row(13), "13 D: o");
         Check.due("row 100", many.row(100), "100 A: o");
-        Check.refuses("row -1", x, INDEX, () -> x.row(-1));
-        Check.refuses("row 3", x, INDEX, () -> x.row(3));
+        Check.refuses("row -1", many, INDEX, () -> many.row(-1));
+        Check.refuses("row 101", many, INDEX, () -> many.row(101));
     }
 }

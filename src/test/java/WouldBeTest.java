@@ -160,6 +160,17 @@ public final class WouldBeTest {
         Check.due("of -1 and 3 the smaller one", y.bestShift(1), -1);
         y.shift(0, -1);
         Check.due("of -3 and 1 the smaller one", y.bestShift(1), 1);
+        // B is 11 long, and fits between two of A, or behind both: a PAUSE between those is no part of the sum.
+        Check.due("between them", shiftAtPause(120), -10);
+        Check.due("behind them", shiftAtPause(121), 10);
+    }
+
+    private static int shiftAtPause(int start) {
+        Turnwright x = new Turnwright();
+        x.word(0, 100, 10, 0, -1);
+        x.word(0, 121, 10, 0, -1);
+        x.word(1, start, 11, 0, -1);
+        return x.bestShift(1);
     }
 
     private static int shiftBetween(int start) {
@@ -243,6 +254,15 @@ public final class WouldBeTest {
         dueDigest("one withdrawn", x);
         x.rest(30);
         dueDigest("a rest", x);
+        Turnwright close = new Turnwright();
+        for (int word = 0; word < 40; word++) {
+            close.word(word % 3, word * 5, 7, word % 7, (word + 1) % 3);
+            dueDigest("close " + word, close);
+        }
+        close.rest(1);
+        dueDigest("close, by a rest of 1", close);
+        Check.due("some are smooth", close.test(false) > 0, true);
+        Check.due("some are smooth, shuffled", close.test(true) > 0, true);
     }
 
     private static void dueDigest(String name, Turnwright x) {

@@ -34,12 +34,12 @@ public final class AskedTest {
     }
 
     /** A talk of words, each of speaker, start, length, kind and look. */
-    private static Turnwright of(int[]... words) {
+    private static Talk of(int[]... words) {
         return ofRest(10, words);
     }
 
-    private static Turnwright ofRest(int rest, int[]... words) {
-        Turnwright x = new Turnwright();
+    private static Talk ofRest(int rest, int[]... words) {
+        Talk x = new Talk();
         x.rest(rest);
         for (int[] word : words) {
             x.word(word[0], word[1], word[2], word[3], word[4]);
@@ -51,27 +51,27 @@ public final class AskedTest {
         return new int[] {speaker, start, length, kind, look};
     }
 
-    private static void dueWord(Turnwright x, int word, int... due) {
+    private static void dueWord(Talk x, int word, int... due) {
         for (int what = 0; what <= 7; what++) {
             Check.due("ofWord(" + word + ", " + what + ")", x.ofWord(word, what), due[what]);
         }
     }
 
     /** What ofTurn answers from one number on. */
-    private static void dueTurn(String name, Turnwright x, int turn, int from, int... due) {
+    private static void dueTurn(String name, Talk x, int turn, int from, int... due) {
         for (int index = 0; index < due.length; index++) {
             Check.due(name + ": ofTurn(" + turn + ", " + (from + index) + ")", x.ofTurn(turn, from + index), due[index]);
         }
     }
 
-    private static void dueQuestion(String name, Turnwright x, int turn, int answer, int delay, int inserts) {
+    private static void dueQuestion(String name, Talk x, int turn, int answer, int delay, int inserts) {
         Check.due(name + ": answer of " + turn, x.ofQuestion(turn, 0), answer);
         Check.due(name + ": delay of " + turn, x.ofQuestion(turn, 1), delay);
         Check.due(name + ": inserts of " + turn, x.ofQuestion(turn, 2), inserts);
     }
 
     private static void promise9() {
-        Turnwright x = of(w(0, 12, 3, 2, 2), w(0, 0, 5, 0, 1), w(0, 6, 4, 1, -1), w(1, 4, 3, 0, 4),
+        Talk x = of(w(0, 12, 3, 2, 2), w(0, 0, 5, 0, 1), w(0, 6, 4, 1, -1), w(1, 4, 3, 0, 4),
                 w(2, 30, 2, 4, -1), w(3, 40, 6, 6, 0));
         dueWord(x, 0, 0, 12, 15, 2, 2, 1, 0, 3);
         dueWord(x, 1, 0, 0, 5, 0, 1, 1, 0, 3);
@@ -94,7 +94,7 @@ public final class AskedTest {
 
     /** A talks from 100 to 130 in three words; the one STRETCH of B is a SIGN or a TURN. */
     private static void dueSign(String name, boolean isSign, int[]... words) {
-        Turnwright x = of(w(0, 100, 10, 0, -1), w(0, 110, 10, 0, -1), w(0, 120, 10, 0, -1));
+        Talk x = of(w(0, 100, 10, 0, -1), w(0, 110, 10, 0, -1), w(0, 120, 10, 0, -1));
         for (int[] word : words) {
             x.word(word[0], word[1], word[2], word[3], word[4]);
         }
@@ -119,15 +119,15 @@ public final class AskedTest {
         dueSign("a question ahead", false, w(1, 110, 3, 5, -1), w(1, 114, 3, 0, -1));
         dueSign("a what behind", false, w(1, 110, 3, 0, -1), w(1, 114, 3, 6, -1));
 
-        Turnwright two = of(w(0, 100, 10, 0, -1), w(0, 110, 20, 0, -1), w(1, 110, 3, 0, -1));
+        Talk two = of(w(0, 100, 10, 0, -1), w(0, 110, 20, 0, -1), w(1, 110, 3, 0, -1));
         Check.due("two words hear no sign", two.talk(4), 0);
         Check.due("two words hear a turn", two.talk(3), 2);
-        Turnwright laughs = of(w(0, 100, 10, 3, -1), w(0, 110, 10, 4, -1), w(0, 120, 10, 3, -1), w(1, 110, 3, 0, -1));
+        Talk laughs = of(w(0, 100, 10, 3, -1), w(0, 110, 10, 4, -1), w(0, 120, 10, 3, -1), w(1, 110, 3, 0, -1));
         Check.due("laughs hear a sign", laughs.talk(4), 1);
         Check.due("laughs are air", laughs.talk(5), 1);
         Check.due("neither is a turn", laughs.talk(3), 0);
 
-        Turnwright x = of(w(0, 100, 10, 0, -1), w(0, 110, 10, 0, -1), w(0, 120, 10, 0, -1), w(1, 110, 3, 0, -1));
+        Talk x = of(w(0, 100, 10, 0, -1), w(0, 110, 10, 0, -1), w(0, 120, 10, 0, -1), w(1, 110, 3, 0, -1));
         int[] shifts = {-11, -10, 17, 18};
         int[] due = {0, 1, 1, 0};
         for (int index = 0; index < 4; index++) {
@@ -143,7 +143,7 @@ public final class AskedTest {
     private static void air() {
         int[][] kinds = {{3}, {4}, {4, 3}, {3, 3, 4, 4}, {0}, {1}, {2}, {5}, {6}, {3, 0}, {2, 4}, {3, 1, 3}, {4, 6}, {3, 5}};
         for (int index = 0; index < kinds.length; index++) {
-            Turnwright x = new Turnwright();
+            Talk x = new Talk();
             for (int word = 0; word < kinds[index].length; word++) {
                 x.word(2, word * 5, 3, kinds[index][word], -1);
             }
@@ -155,7 +155,7 @@ public final class AskedTest {
     }
 
     private static void promise10Order() {
-        Turnwright x = of(w(1, 10, 5, 0, -1), w(0, 10, 8, 0, -1), w(2, 3, 2, 0, -1), w(2, 5, 1, 0, -1), w(2, 0, 2, 0, -1));
+        Talk x = of(w(1, 10, 5, 0, -1), w(0, 10, 8, 0, -1), w(2, 3, 2, 0, -1), w(2, 5, 1, 0, -1), w(2, 0, 2, 0, -1));
         dueTurn("order", x, 0, 0, 2, 0, 6, 3, 4, -1, 0, 0, -1, 0, -1, 0, 0, -1, -1, -1);
         dueTurn("order", x, 1, 0, 0, 10, 18, 1, 1, -1, 0, 4, 2, 0, 2, 0, 0, -1, -1, -1);
         dueTurn("order", x, 2, 0, 1, 10, 15, 1, 0, -1, 0, -8, 3, 5, 2, 1, 0, -1, -1, -1);
@@ -175,17 +175,17 @@ public final class AskedTest {
             {104, 6, -6, 3, 6}, {104, 7, -6, 3, 6}, {104, 5, -6, 3, 5}, {900, 5, 790, 2, 0},
         };
         for (int[] row : due) {
-            Turnwright x = of(w(0, 100, 10, 0, -1), w(1, row[0], row[1], 0, -1));
+            Talk x = of(w(0, 100, 10, 0, -1), w(1, row[0], row[1], 0, -1));
             dueTurn("passage at " + row[0], x, 1, 7, row[2], row[3], row[4]);
             dueTurn("passage of the first", x, 0, 7, 0, -1, 0);
         }
-        Turnwright pause = of(w(0, 100, 10, 0, -1), w(0, 121, 5, 0, -1));
+        Talk pause = of(w(0, 100, 10, 0, -1), w(0, 121, 5, 0, -1));
         dueTurn("pause", pause, 1, 7, 11, 0, 0);
-        Turnwright short1 = ofRest(1, w(0, 100, 10, 0, -1), w(0, 112, 5, 0, -1));
+        Talk short1 = ofRest(1, w(0, 100, 10, 0, -1), w(0, 112, 5, 0, -1));
         dueTurn("short pause", short1, 1, 7, 2, 0, 0);
-        Turnwright air = of(w(0, 0, 5, 0, -1), w(1, 7, 1, 3, -1), w(0, 30, 5, 0, -1));
+        Talk air = of(w(0, 0, 5, 0, -1), w(1, 7, 1, 3, -1), w(0, 30, 5, 0, -1));
         dueTurn("pause with a laugh in it", air, 1, 7, 25, 0, 0);
-        Turnwright third = of(w(0, 0, 50, 0, -1), w(1, 10, 5, 0, -1), w(2, 20, 5, 0, -1));
+        Talk third = of(w(0, 0, 50, 0, -1), w(1, 10, 5, 0, -1), w(2, 20, 5, 0, -1));
         dueTurn("off of the one ahead, though another goes on", third, 2, 7, 5, 2, 0);
     }
 
@@ -199,14 +199,14 @@ public final class AskedTest {
         dueWay("the last look counts: against", 3, 1, 2, 1);
         dueWay("an earlier look stands", 0, 3, -1, 3);
         dueWay("an earlier look stands: against", 3, 3, -1, 4);
-        Turnwright x = of(w(0, 0, 5, 0, 1), w(2, 20, 5, 0, -1));
+        Talk x = of(w(0, 0, 5, 0, 1), w(2, 20, 5, 0, -1));
         x.withdraw(1);
         dueTurn("one who is withdrawn is chosen", x, 1, 10, 3);
     }
 
     /** A says two words with these looks; then one speaks. */
     private static void dueWay(String name, int due, int look, int lastLook, int speaker) {
-        Turnwright x = of(w(0, 0, 5, 0, look), w(0, 6, 5, 0, lastLook), w(speaker, 40, 5, 0, -1));
+        Talk x = of(w(0, 0, 5, 0, look), w(0, 6, 5, 0, lastLook), w(speaker, 40, 5, 0, -1));
         Check.due(name + ": next", x.ofTurn(0, 5), lastLook == -1 ? look : lastLook);
         Check.due(name + ": the first", x.ofTurn(0, 10), -1);
         Check.due(name + ": how it came", x.ofTurn(1, 10), due);
@@ -219,7 +219,7 @@ public final class AskedTest {
             boolean isPoint = kind == 1 || kind == 5 || kind == 6;
             for (int index = 0; index < 5; index++) {
                 boolean isNear = isPoint && index >= 1 && index <= 3;
-                Turnwright x = of(w(0, 100, 10, kind, -1), w(0, 111, 19, 0, -1), w(1, starts[index], 40, 0, -1));
+                Talk x = of(w(0, 100, 10, kind, -1), w(0, 111, 19, 0, -1), w(1, starts[index], 40, 0, -1));
                 dueInterrupts(x, "kind " + kind + " start " + starts[index], 1, isNear ? 0 : 1);
                 dueInterrupts(x, "the first turn", 0, 0);
             }
@@ -232,7 +232,7 @@ public final class AskedTest {
         dueInterrupts(of(w(0, 100, 10, 1, -1), w(2, 101, 39, 0, -1), w(1, 110, 40, 0, -1)), "a point two ahead", 2, 1);
     }
 
-    private static void dueInterrupts(Turnwright x, String name, int turn, int due) {
+    private static void dueInterrupts(Talk x, String name, int turn, int due) {
         for (int shift = -100; shift <= 100; shift += 50) {
             for (int speaker = 0; speaker <= 4; speaker++) {
                 x.shift(speaker, shift);
@@ -251,12 +251,12 @@ public final class AskedTest {
             dueExcused("taken", kind, 140, -1, 0);
             dueExcused("chosen", kind, 140, 1, 0);
         }
-        Turnwright x = of(w(0, 100, 30, 0, 2), w(1, 115, 2, 0, -1), w(1, 118, 2, 3, -1), w(1, 121, 40, 6, -1));
+        Talk x = of(w(0, 100, 30, 0, 2), w(1, 115, 2, 0, -1), w(1, 118, 2, 3, -1), w(1, 121, 40, 6, -1));
         Check.due("a laugh behind the first word", x.ofTurn(1, 12), 0);
     }
 
     private static void dueExcused(String name, int kind, int start, int look, int due) {
-        Turnwright x = of(w(0, 100, 10, 0, look), w(0, 111, 19, 0, -1), w(1, start, 2, kind, -1), w(1, start + 3, 40, 0, -1));
+        Talk x = of(w(0, 100, 10, 0, look), w(0, 111, 19, 0, -1), w(1, start, 2, kind, -1), w(1, start + 3, 40, 0, -1));
         Check.due(name + " by kind " + kind, x.ofTurn(1, 12), due);
         Check.due(name + " by kind " + kind + ": of the first", x.ofTurn(0, 12), 0);
         Check.due(name + " by kind " + kind + ": how many", x.talk(11), due);
@@ -264,9 +264,9 @@ public final class AskedTest {
 
     private static void promise10Questions() {
         for (int kind = 0; kind <= 6; kind++) {
-            Turnwright last = of(w(0, 0, 5, 0, -1), w(0, 6, 5, kind, -1));
+            Talk last = of(w(0, 0, 5, 0, -1), w(0, 6, 5, kind, -1));
             Check.due("asks with last kind " + kind, last.ofTurn(0, 6), kind >= 5 ? 1 : 0);
-            Turnwright first = of(w(0, 0, 5, kind, -1), w(0, 6, 5, 0, -1));
+            Talk first = of(w(0, 0, 5, kind, -1), w(0, 6, 5, 0, -1));
             Check.due("asks with first kind " + kind, first.ofTurn(0, 6), 0);
         }
     }
@@ -274,14 +274,14 @@ public final class AskedTest {
     private static void promise11Times() {
         int[][] due = {{5, 1, 0}, {10, 1, 0}, {17, 1, 0}, {18, 1, 1}, {60, 1, 1}, {61, -1, -1}};
         for (int[] row : due) {
-            Turnwright x = of(w(0, 0, 10, 5, -1), w(1, row[0], 6, 0, -1));
+            Talk x = of(w(0, 0, 10, 5, -1), w(1, row[0], 6, 0, -1));
             dueQuestion("answer at " + row[0], x, 0, row[1], row[2], 0);
             dueQuestion("no question", x, 1, -1, -1, 0);
             Check.due("answers at " + row[0], x.ofTurn(1, 13), row[1] == -1 ? -1 : 0);
             Check.due("a question answers none", x.ofTurn(0, 13), -1);
             Check.due("unanswered at " + row[0], x.talk(14), row[1] == -1 ? 1 : 0);
         }
-        Turnwright x = of(w(0, 0, 10, 6, -1), w(1, 12, 6, 0, -1));
+        Talk x = of(w(0, 0, 10, 6, -1), w(1, 12, 6, 0, -1));
         dueQuestion("of kind 6", x, 0, 1, 0, 0);
         Check.refuses("turn 2", x, INDEX, () -> x.ofQuestion(2, 0));
         Check.refuses("turn -1", x, INDEX, () -> x.ofQuestion(-1, 0));
@@ -291,7 +291,7 @@ public final class AskedTest {
     }
 
     private static void promise11Heap() {
-        Turnwright x = ofRest(1, w(0, 0, 10, 5, -1), w(1, 12, 3, 5, -1), w(0, 17, 3, 0, -1), w(1, 22, 3, 0, -1));
+        Talk x = ofRest(1, w(0, 0, 10, 5, -1), w(1, 12, 3, 5, -1), w(0, 17, 3, 0, -1), w(1, 22, 3, 0, -1));
         dueQuestion("upon a question", x, 0, 3, 1, 1);
         dueQuestion("upon a question", x, 1, 2, 0, 0);
         Check.due("it answers the later one", x.ofTurn(2, 13), 1);
@@ -299,28 +299,28 @@ public final class AskedTest {
         Check.due("asks", x.talk(13), 2);
         Check.due("unanswered", x.talk(14), 0);
 
-        Turnwright three = ofRest(1, w(0, 0, 5, 5, -1), w(1, 6, 5, 6, -1), w(2, 12, 5, 5, -1), w(3, 18, 5, 0, -1),
+        Talk three = ofRest(1, w(0, 0, 5, 5, -1), w(1, 6, 5, 6, -1), w(2, 12, 5, 5, -1), w(3, 18, 5, 0, -1),
                 w(4, 24, 5, 0, -1), w(3, 30, 5, 0, -1), w(4, 40, 5, 0, -1));
         dueQuestion("three deep", three, 0, 5, 1, 2);
         dueQuestion("three deep", three, 1, 4, 1, 1);
         dueQuestion("three deep", three, 2, 3, 0, 0);
         Check.due("nothing left to answer", three.ofTurn(6, 13), -1);
 
-        Turnwright asking = ofRest(1, w(0, 0, 5, 5, 1), w(1, 6, 5, 5, 0), w(1, 20, 5, 0, -1), w(0, 30, 5, 0, -1));
+        Talk asking = ofRest(1, w(0, 0, 5, 5, 1), w(1, 6, 5, 5, 0), w(1, 20, 5, 0, -1), w(0, 30, 5, 0, -1));
         dueQuestion("a question is no answer", asking, 0, -1, -1, 0);
         dueQuestion("nobody answers oneself", asking, 1, 3, 1, 0);
         Check.due("unanswered one", asking.talk(14), 1);
     }
 
     private static void promise11WhoAnswers() {
-        Turnwright x = ofRest(1, w(0, 0, 10, 5, 2), w(1, 12, 3, 0, -1), w(2, 17, 3, 0, -1));
+        Talk x = ofRest(1, w(0, 0, 10, 5, 2), w(1, 12, 3, 0, -1), w(2, 17, 3, 0, -1));
         dueQuestion("the one who was asked", x, 0, 2, 0, 0);
         Check.due("the one who was not asked", x.ofTurn(1, 13), -1);
 
-        Turnwright own = ofRest(1, w(0, 0, 10, 5, -1), w(0, 12, 3, 0, -1), w(3, 18, 3, 0, -1));
+        Talk own = ofRest(1, w(0, 0, 10, 5, -1), w(0, 12, 3, 0, -1), w(3, 18, 3, 0, -1));
         dueQuestion("oneself does not answer", own, 0, 2, 1, 0);
 
-        Turnwright top = ofRest(1, w(0, 0, 5, 5, -1), w(1, 6, 5, 5, 2), w(3, 12, 5, 0, -1), w(2, 18, 5, 0, -1),
+        Talk top = ofRest(1, w(0, 0, 5, 5, -1), w(1, 6, 5, 5, 2), w(3, 12, 5, 0, -1), w(2, 18, 5, 0, -1),
                 w(3, 24, 5, 0, -1));
         Check.due("no other one is looked at", top.ofTurn(2, 13), -1);
         dueQuestion("the top one", top, 1, 3, 0, 0);
@@ -328,12 +328,12 @@ public final class AskedTest {
     }
 
     private static void promise11Late() {
-        Turnwright x = of(w(0, 0, 10, 5, -1), w(1, 61, 5, 0, -1), w(2, 63, 5, 0, -1));
+        Talk x = of(w(0, 0, 10, 5, -1), w(1, 61, 5, 0, -1), w(2, 63, 5, 0, -1));
         dueQuestion("too late", x, 0, -1, -1, 0);
         Check.due("too late", x.ofTurn(1, 13), -1);
         Check.due("taken off all the same", x.ofTurn(2, 13), -1);
 
-        Turnwright below = of(w(0, 0, 50, 5, -1), w(1, 5, 5, 5, -1), w(2, 61, 5, 0, -1), w(3, 70, 5, 0, -1));
+        Talk below = of(w(0, 0, 50, 5, -1), w(1, 5, 5, 5, -1), w(2, 61, 5, 0, -1), w(3, 70, 5, 0, -1));
         dueQuestion("late on top", below, 1, -1, -1, 0);
         Check.due("late on top: nothing else is looked at", below.ofTurn(2, 13), -1);
         dueQuestion("in time below", below, 0, 3, 1, 1);
@@ -344,7 +344,7 @@ public final class AskedTest {
 
     /** As many TURNS as can be: A asks and B answers, 12 by 12, sixty times. */
     private static void fullOfTurns() {
-        Turnwright x = new Turnwright();
+        Talk x = new Talk();
         for (int word = 0; word < 120; word++) {
             x.word(word % 2, word * 12, 10, word % 2 == 0 ? 5 : 2, 1 - word % 2);
         }
@@ -374,7 +374,7 @@ public final class AskedTest {
     }
 
     private static void promise12() {
-        Turnwright x = of(w(0, 0, 10, 0, -1), w(0, 10, 10, 2, -1), w(0, 20, 10, 1, 1), w(1, 5, 3, 0, -1),
+        Talk x = of(w(0, 0, 10, 0, -1), w(0, 10, 10, 2, -1), w(0, 20, 10, 1, 1), w(1, 5, 3, 0, -1),
                 w(2, 26, 8, 3, -1), w(2, 35, 5, 0, -1), w(1, 41, 4, 6, -1), w(2, 60, 5, 0, -1), w(2, 80, 5, 5, 3),
                 w(4, 100, 3, 4, -1), w(0, 200, 5, 2, -1), w(3, 300, 5, 0, -1));
         dueTalk("whole", x, 12, 12, 9, 7, 1, 1, 1, 1, 3, 1, 1, 1, 2, 2, 1, 1, 1, 1, 1, 0, 10, 0);
@@ -394,7 +394,7 @@ public final class AskedTest {
         Check.refuses("what -1", x, ARGUMENT, () -> x.talk(-1));
     }
 
-    private static void dueTalk(String name, Turnwright x, int... due) {
+    private static void dueTalk(String name, Talk x, int... due) {
         for (int what = 0; what <= 21; what++) {
             Check.due(name + ": talk(" + what + ")", x.talk(what), due[what]);
         }
@@ -414,12 +414,12 @@ public final class AskedTest {
         dueSelf(2, 2, 2, 2, 1);
         dueSelf(2, 1, 2, 0, 2, 3);
         dueSelf(2, 0, 2, 6, 2, 4);
-        Turnwright apart = of(w(0, 0, 5, 2, -1), w(0, 16, 5, 0, -1));
+        Talk apart = of(w(0, 0, 5, 2, -1), w(0, 16, 5, 0, -1));
         Check.due("a repair in another stretch", apart.talk(15), 0);
-        Turnwright next = of(w(0, 0, 5, 2, -1), w(0, 6, 5, 3, -1), w(0, 22, 5, 0, -1));
+        Talk next = of(w(0, 0, 5, 2, -1), w(0, 6, 5, 3, -1), w(0, 22, 5, 0, -1));
         Check.due("a repair", next.talk(15), 1);
         Check.due("mended in another stretch", next.talk(16), 0);
-        Turnwright sign = of(w(0, 100, 10, 0, -1), w(0, 110, 10, 0, -1), w(0, 120, 10, 0, -1),
+        Talk sign = of(w(0, 100, 10, 0, -1), w(0, 110, 10, 0, -1), w(0, 120, 10, 0, -1),
                 w(1, 102, 2, 2, -1), w(1, 105, 2, 0, -1));
         Check.due("there is a sign", sign.talk(4), 1);
         Check.due("a repair in a sign", sign.talk(15), 1);
@@ -429,7 +429,7 @@ public final class AskedTest {
     }
 
     private static void dueSelf(int many, int done, int... kinds) {
-        Turnwright x = new Turnwright();
+        Talk x = new Talk();
         StringBuilder name = new StringBuilder("self");
         for (int word = 0; word < kinds.length; word++) {
             x.word(3, word * 4, 3, kinds[word], -1);
@@ -451,15 +451,15 @@ public final class AskedTest {
         dueOther("trouble of the last other one, mended", 1, 1, 0, 2, 16, 2);
         dueOther("what upon what", 2, 1, 0, 16, 26, 1);
         dueOther("what upon what, both mended", 2, 2, 0, 16, 6, 1);
-        Turnwright x = of(w(0, 0, 5, 0, -1), w(1, 6, 5, 6, -1), w(1, 12, 5, 0, -1), w(0, 18, 5, 0, -1));
+        Talk x = of(w(0, 0, 5, 0, -1), w(1, 6, 5, 6, -1), w(1, 12, 5, 0, -1), w(0, 18, 5, 0, -1));
         Check.due("a what that is not last", x.talk(17), 0);
-        Turnwright y = of(w(0, 0, 5, 0, -1), w(1, 6, 5, 5, -1), w(0, 18, 5, 0, -1));
+        Talk y = of(w(0, 0, 5, 0, -1), w(1, 6, 5, 5, -1), w(0, 18, 5, 0, -1));
         Check.due("a question is no repair", y.talk(17), 0);
     }
 
     /** Turns far apart, each given by its speaker, with 10 * speaker + 6 for one of kind 6. */
     private static void dueOther(String name, int many, int done, int... turns) {
-        Turnwright x = new Turnwright();
+        Talk x = new Talk();
         for (int turn = 0; turn < turns.length; turn++) {
             boolean isWhat = turns[turn] >= 6;
             x.word(isWhat ? turns[turn] / 10 : turns[turn], turn * 30, 5, isWhat ? 6 : 0, -1);
@@ -469,7 +469,7 @@ public final class AskedTest {
     }
 
     private static void promise13And14() {
-        Turnwright x = ofRest(1, w(0, 0, 10, 0, -1), w(1, 12, 3, 0, -1), w(0, 16, 4, 0, -1), w(1, 18, 7, 0, -1),
+        Talk x = ofRest(1, w(0, 0, 10, 0, -1), w(1, 12, 3, 0, -1), w(0, 16, 4, 0, -1), w(1, 18, 7, 0, -1),
                 w(1, 40, 5, 0, -1), w(0, 50, 5, 0, -1), w(2, 60, 5, 0, -1), w(1, 70, 5, 0, -1), w(0, 76, 4, 0, -1));
         dueBetween(x, 0, 1, 2, 0, 1, 0.0);
         dueBetween(x, 1, 0, 3, 7, 0, 7.0 / 3.0);
@@ -481,7 +481,7 @@ public final class AskedTest {
         dueBetween(x, 0, 1, 2, -2, 1, -1.0);
         x.withdraw(2);
         dueBetween(x, 0, 1, 3, 12, 1, 4.0);
-        Turnwright gone = of(w(0, 0, 10, 0, -1), w(1, 12, 3, 0, -1), w(0, 30, 4, 0, -1), w(1, 36, 7, 0, -1));
+        Talk gone = of(w(0, 0, 10, 0, -1), w(1, 12, 3, 0, -1), w(0, 30, 4, 0, -1), w(1, 36, 7, 0, -1));
         gone.withdraw(1);
         dueBetween(gone, 0, 1, 0, 0, 0, 0.0);
         Check.due("test of what is left", gone.test(false), 0);
@@ -497,7 +497,7 @@ public final class AskedTest {
         Check.refuses("mean, both the same", x, ARGUMENT, () -> x.mean(4, 4));
     }
 
-    private static void dueBetween(Turnwright x, int one, int two, int many, int sum, int overlaps, double mean) {
+    private static void dueBetween(Talk x, int one, int two, int many, int sum, int overlaps, double mean) {
         String name = one + " to " + two + ": ";
         Check.due(name + "how many", x.between(one, two, 0), many);
         Check.due(name + "sum", x.between(one, two, 1), sum);
@@ -506,7 +506,7 @@ public final class AskedTest {
     }
 
     private static void promise15And16() {
-        Turnwright x = new Turnwright();
+        Talk x = new Talk();
         int[] lengths = {1, 2, 4, 8, 16, 32, 50};
         for (int kind = 0; kind <= 6; kind++) {
             x.word(0, 100 * kind, lengths[kind], kind, -1);
@@ -529,7 +529,7 @@ public final class AskedTest {
         Check.due("floor of the one left", x.floor(1), 1.0);
         x.withdraw(1);
         Check.due("floor, nobody talks", x.floor(2), 0.0);
-        Turnwright sign = of(w(0, 100, 10, 0, -1), w(0, 110, 10, 0, -1), w(0, 120, 10, 0, -1), w(1, 110, 3, 0, -1));
+        Talk sign = of(w(0, 100, 10, 0, -1), w(0, 110, 10, 0, -1), w(0, 120, 10, 0, -1), w(1, 110, 3, 0, -1));
         Check.due("talk in a sign", sign.said(1), 3);
         Check.refuses("said -1", x, INDEX, () -> x.said(-1));
         Check.refuses("said 5", x, INDEX, () -> x.said(5));
@@ -540,20 +540,20 @@ public final class AskedTest {
     private static void promise17() {
         for (int off = -4; off <= 6; off++) {
             int due = off >= -2 && off <= 4 ? 1 : 0;
-            Turnwright one = of(w(0, 100, 10, 0, -1), w(1, 110 + off, 20, 0, -1));
+            Talk one = of(w(0, 100, 10, 0, -1), w(1, 110 + off, 20, 0, -1));
             Check.due("test with off " + off, one.test(false), due);
             Check.due("two turns are not shuffled", one.test(true), 0);
-            Turnwright two = of(w(0, 100, 10, 0, -1), w(1, 101, 2, 0, -1), w(2, 110 + off, 20, 0, -1));
+            Talk two = of(w(0, 100, 10, 0, -1), w(1, 101, 2, 0, -1), w(2, 110 + off, 20, 0, -1));
             Check.due("shuffled with off " + off, two.test(true), due);
             Check.due("test of that talk: 7 more behind the one ahead", two.test(false), off <= -3 ? 1 : 0);
         }
-        Turnwright same = ofRest(1, w(0, 100, 10, 0, -1), w(0, 112, 5, 0, -1), w(0, 119, 5, 0, -1));
+        Talk same = ofRest(1, w(0, 100, 10, 0, -1), w(0, 112, 5, 0, -1), w(0, 119, 5, 0, -1));
         Check.due("test of one speaker", same.test(false), 0);
         Check.due("shuffled of one speaker", same.test(true), 0);
-        Turnwright back = ofRest(1, w(0, 100, 10, 0, -1), w(1, 110, 1, 0, -1), w(0, 112, 5, 0, -1));
+        Talk back = ofRest(1, w(0, 100, 10, 0, -1), w(1, 110, 1, 0, -1), w(0, 112, 5, 0, -1));
         Check.due("test of back and forth", back.test(false), 2);
         Check.due("shuffled of back and forth", back.test(true), 0);
-        Turnwright twice = ofRest(1, w(0, 100, 10, 0, -1), w(1, 110, 1, 0, -1), w(1, 113, 5, 0, -1));
+        Talk twice = ofRest(1, w(0, 100, 10, 0, -1), w(1, 110, 1, 0, -1), w(1, 113, 5, 0, -1));
         Check.due("test of one who goes on", twice.test(false), 1);
         Check.due("shuffled of one who goes on", twice.test(true), 1);
     }
@@ -571,7 +571,7 @@ public final class AskedTest {
     }
 
     private static void dueAgreement(String name, double due, int[][] codes) {
-        Turnwright x = new Turnwright();
+        Talk x = new Talk();
         for (int turn = 0; turn < codes.length; turn++) {
             x.word(turn % 5, turn * 10, 5, 0, -1);
             for (int coder = 0; coder <= 1; coder++) {
@@ -584,7 +584,7 @@ public final class AskedTest {
     }
 
     private static void promise19() {
-        Turnwright x = of(w(1, 110, 3, 0, -1), w(0, 100, 10, 0, -1), w(0, 110, 10, 0, -1));
+        Talk x = of(w(1, 110, 3, 0, -1), w(0, 100, 10, 0, -1), w(0, 110, 10, 0, -1));
         Check.due("the first cite", x.cite(1), 0);
         Check.due("the second cite", x.cite(0), 1);
         Check.due("cited as told", x.cited(0), 1);
@@ -604,7 +604,7 @@ public final class AskedTest {
     }
 
     private static void promise20() {
-        Turnwright x = of(w(0, 0, 1, 0, -1), w(0, 1, 1, 1, -1), w(0, 3, 1, 2, -1), w(0, 6, 1, 3, -1),
+        Talk x = of(w(0, 0, 1, 0, -1), w(0, 1, 1, 1, -1), w(0, 3, 1, 2, -1), w(0, 6, 1, 3, -1),
                 w(0, 10, 1, 4, -1), w(0, 15, 1, 5, -1), w(0, 26, 1, 6, -1));
         Check.due("all kinds", x.row(0), "0 A: o._-__h___x___?___!");
         x.word(4, 27, 2, 2, -1);
@@ -625,11 +625,11 @@ public final class AskedTest {
         x.withdraw(4);
         Check.refuses("no row left", x, INDEX, () -> x.row(0));
         Check.due("a gap behind the first word", of(w(3, 0, 5, 1, -1), w(3, 7, 5, 0, -1)).row(0), "0 D: .__o");
-        Turnwright fewer = of(w(0, 0, 5, 0, -1), w(1, 5, 9, 0, -1), w(2, 8, 9, 0, -1));
+        Talk fewer = of(w(0, 0, 5, 0, -1), w(1, 5, 9, 0, -1), w(2, 8, 9, 0, -1));
         Check.due("ahead of an overlap", fewer.row(1), "1 B: o]");
         fewer.withdraw(2);
         Check.due("the overlap is gone", fewer.row(1), "1 B: o");
-        Turnwright many = new Turnwright();
+        Talk many = new Talk();
         for (int turn = 0; turn < 101; turn++) {
             many.word(turn % 5, turn * 12, 5, 0, -1);
         }

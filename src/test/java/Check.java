@@ -35,9 +35,17 @@ final class Check {
     }
 
     /** The call must throw just this exception, and change nothing that can be asked. */
-    static void refuses(String what, Turnwright talk, Class<? extends RuntimeException> due, Runnable call) {
-        checks++;
+    static void refuses(String what, Talk talk, Class<? extends RuntimeException> due, Runnable call) {
         String before = state(talk);
+        throwsJust(what, due, call);
+        if (!before.equals(state(talk))) {
+            tell(what + " changed something");
+        }
+    }
+
+    /** The call must throw just this exception; nothing, if that is null. */
+    static void throwsJust(String what, Class<? extends RuntimeException> due, Runnable call) {
+        checks++;
         Class<?> got = null;
         try {
             call.run();
@@ -47,32 +55,55 @@ final class Check {
         if (got != due) {
             tell(what + " threw " + got + ", due is " + due);
         }
-        if (!before.equals(state(talk))) {
-            tell(what + " changed something");
-        }
     }
 
     /** All that the object answers. */
-    static String state(Turnwright talk) {
+    static String state(Talk talk) {
         StringBuilder all = new StringBuilder();
-        for (int what = 0; what < 22; what++) {
+        for (int what = 0; what <= 21; what++) {
             all.append(talk.talk(what)).append(' ');
         }
         for (int word = 0; word < talk.talk(0); word++) {
-            for (int what = 0; what < 8; what++) {
+            for (int what = 0; what <= 7; what++) {
                 all.append(talk.ofWord(word, what)).append(' ');
             }
         }
         for (int turn = 0; turn < talk.talk(3); turn++) {
-            all.append(talk.row(turn)).append(' ').append(talk.ofTurn(turn, 14)).append(talk.ofTurn(turn, 15));
+            addTurn(all, talk, turn);
         }
         for (int cite = 0; cite < talk.talk(19); cite++) {
             all.append(talk.cited(cite)).append(' ');
         }
-        for (int speaker = 0; speaker < 5; speaker++) {
-            all.append(talk.fits(speaker, 20000, 1)).append(talk.fits(speaker, 0, 50)).append(' ');
+        for (int speaker = 0; speaker <= 4; speaker++) {
+            addSpeaker(all, talk, speaker);
         }
-        return all.append(talk.digest()).toString();
+        all.append(talk.test(false)).append(' ').append(talk.test(true)).append(' ').append(talk.agreement());
+        all.append(' ').append(talk.bestRest(false)).append(' ').append(talk.bestRest(true));
+        return all.append(talk.isSound()).append(talk.digest()).toString();
+    }
+
+    private static void addTurn(StringBuilder all, Talk talk, int turn) {
+        all.append(talk.row(turn));
+        for (int what = 0; what <= 15; what++) {
+            all.append(' ').append(talk.ofTurn(turn, what));
+        }
+        for (int what = 0; what <= 2; what++) {
+            all.append(' ').append(talk.ofQuestion(turn, what));
+        }
+    }
+
+    private static void addSpeaker(StringBuilder all, Talk talk, int speaker) {
+        all.append(talk.said(speaker)).append(' ').append(talk.floor(speaker)).append(' ');
+        all.append(talk.wouldCome(speaker)).append(' ').append(talk.bestShift(speaker)).append(' ');
+        all.append(talk.fits(speaker, 20000, 1)).append(talk.fits(speaker, 0, 50));
+        for (int two = 0; two <= 4; two++) {
+            if (two != speaker) {
+                all.append(talk.mean(speaker, two));
+                for (int what = 0; what <= 2; what++) {
+                    all.append(' ').append(talk.between(speaker, two, what));
+                }
+            }
+        }
     }
 
     static void tell(String text) {

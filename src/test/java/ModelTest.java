@@ -2,8 +2,9 @@ import java.util.Random;
 
 /** Long runs of calls, made up from fixed seeds, on Turnwright and on PlainTalk: both must answer the same. */
 public final class ModelTest {
-    private static final int RUNS = 60;
+    private static final int RUNS = 120;
     private static final int CALLS = 512;
+    private static final int LAST_CALLS = 2;
 
     private ModelTest() {
     }
@@ -19,6 +20,7 @@ public final class ModelTest {
         Style[] styles = {
             new Style(300, 8, 0, telling), new Style(900, 12, 4, telling), new Style(2500, 30, 20, telling),
             new Style(600, 6, 10, withLeaving), new Style(1500, 50, 4, coding), new Style(20000, 50, 30, telling),
+            new Style(150, 4, 0, telling), new Style(3000, 50, 0, withLeaving), new Style(400, 3, 0, coding),
         };
         for (int run = 0; run < RUNS; run++) {
             compare(run, styles[run % styles.length]);
@@ -30,9 +32,9 @@ public final class ModelTest {
         Random random = new Random(run);
         Turnwright one = new Turnwright();
         PlainTalk two = new PlainTalk();
-        for (int call = 0; call < CALLS; call++) {
+        for (int call = 0; call < CALLS - LAST_CALLS; call++) {
             int method = pick(random, style.weights());
-            int[] arguments = arguments(random, method, style, one.talk(3), one.talk(0), one.talk(19));
+            int[] arguments = arguments(random, method, style, two.talk(3), two.talk(0), two.talk(19));
             String got = answer(one, two, method, arguments, true);
             String due = answer(one, two, method, arguments, false);
             Check.due("run " + run + " call " + call + " of method " + method

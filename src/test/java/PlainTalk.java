@@ -62,6 +62,9 @@ final class PlainTalk {
     private final boolean[] gone = new boolean[5];
     private int rest = 10;
     private int refused = 0;
+    /** What was worked out since something was told last; null behind each telling. */
+    private List<Row> knownStretches;
+    private List<Row> knownTurns;
 
     private static boolean isOneOf(int kind, int... kinds) {
         for (int one : kinds) {
@@ -79,6 +82,7 @@ final class PlainTalk {
         argument(start >= 0 && start <= 20000 && length >= 1 && length <= 50 && kind >= 0 && kind <= 6
                 && look != speaker);
         state(fits(speaker, start, length));
+        forget();
         told.add(new Spoken(told.size(), speaker, start, start + length, kind, look));
         codes[told.size() - 1][0] = NONE;
         codes[told.size() - 1][1] = NONE;
@@ -87,6 +91,7 @@ final class PlainTalk {
 
     int rest(int due) {
         argument(due >= 1 && due <= 30);
+        forget();
         int before = rest;
         rest = due;
         return before;
@@ -95,6 +100,7 @@ final class PlainTalk {
     int shift(int speaker, int shift) {
         index(speaker >= 0 && speaker <= 4);
         argument(shift >= -100 && shift <= 100);
+        forget();
         int before = shifts[speaker];
         shifts[speaker] = shift;
         return before;
@@ -103,6 +109,7 @@ final class PlainTalk {
     int withdraw(int speaker) {
         index(speaker >= 0 && speaker <= 4);
         state(!gone[speaker]);
+        forget();
         gone[speaker] = true;
         return (int) told.stream().filter(word -> word.speaker() == speaker).count();
     }
@@ -134,7 +141,7 @@ final class PlainTalk {
         argument(what >= 0 && what <= 7);
         Spoken word = told.get(number);
         Row within = null;
-        for (Row row : stretches(rest, shifts)) {
+        for (Row row : stretches()) {
             within = row.words().stream().anyMatch(one -> one.number() == number) ? row : within;
         }
         return switch (what) {
@@ -190,7 +197,7 @@ final class PlainTalk {
 
     int talk(int what) {
         argument(what >= 0 && what <= 21);
-        List<Row> stretches = stretches(rest, shifts);
+        List<Row> stretches = stretches();
         List<Row> turns = turns();
         int many = 0;
         switch (what) {
@@ -442,8 +449,19 @@ final class PlainTalk {
         return turns.get(number);
     }
 
+    private void forget() {
+        knownStretches = null;
+        knownTurns = null;
+    }
+
+    private List<Row> stretches() {
+        knownStretches = knownStretches == null ? stretches(rest, shifts) : knownStretches;
+        return knownStretches;
+    }
+
     private List<Row> turns() {
-        return turns(rest, shifts);
+        knownTurns = knownTurns == null ? turns(rest, shifts) : knownTurns;
+        return knownTurns;
     }
 
     private List<Row> turns(int byRest, int[] byShifts) {

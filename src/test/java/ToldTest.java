@@ -23,7 +23,7 @@ public final class ToldTest {
     }
 
     private static void promise1() {
-        Turnwright x = new Turnwright();
+        Talk x = new Talk();
         for (int what = 0; what <= 21; what++) {
             Check.due("new talk(" + what + ")", x.talk(what), what == 20 ? 10 : 0);
         }
@@ -42,7 +42,7 @@ public final class ToldTest {
         Check.refuses("new ofWord", x, INDEX, () -> x.ofWord(0, 0));
         Check.refuses("new ofTurn", x, INDEX, () -> x.ofTurn(0, 0));
         Check.refuses("new cited", x, INDEX, () -> x.cited(0));
-        Turnwright other = new Turnwright();
+        Talk other = new Talk();
         other.word(0, 0, 1, 0, -1);
         other.call();
         Check.due("words of another object", x.talk(0), 0);
@@ -50,7 +50,7 @@ public final class ToldTest {
     }
 
     private static void promise2() {
-        Turnwright x = new Turnwright();
+        Talk x = new Talk();
         Check.due("the first word", x.word(0, 0, 1, 0, -1), 0);
         Check.due("the last start, the longest, the last kind, the last look", x.word(4, 20000, 50, 6, 3), 1);
         Check.due("the first speaker looked at", x.word(4, 0, 50, 6, 0), 2);
@@ -81,7 +81,7 @@ public final class ToldTest {
     }
 
     private static void promise2SharedTime() {
-        Turnwright x = new Turnwright();
+        Talk x = new Talk();
         x.word(0, 100, 10, 0, -1);
         int[][] shared = {{100, 10}, {99, 2}, {109, 1}, {102, 3}, {90, 50}, {109, 50}, {61, 40}};
         for (int[] time : shared) {
@@ -96,7 +96,7 @@ public final class ToldTest {
     }
 
     private static void promise2Full() {
-        Turnwright x = new Turnwright();
+        Talk x = new Talk();
         for (int word = 0; word < 120; word++) {
             Check.due("word " + word, x.word(word % 5, word * 100, 50, word % 7, -1), word);
         }
@@ -110,7 +110,7 @@ public final class ToldTest {
     }
 
     private static void promise3() {
-        Turnwright x = new Turnwright();
+        Talk x = new Talk();
         x.word(0, 0, 5, 0, -1);
         x.word(0, 15, 5, 0, -1);
         x.word(1, 7, 2, 0, -1);
@@ -124,7 +124,7 @@ public final class ToldTest {
         Check.refuses("rest -1", x, ARGUMENT, () -> x.rest(-1));
         Check.refuses("rest far out", x, ARGUMENT, () -> x.rest(Integer.MAX_VALUE));
         Check.due("a refused rest is not kept", x.rest(1), 1);
-        Turnwright y = new Turnwright();
+        Talk y = new Talk();
         y.word(2, 0, 1, 0, -1);
         y.word(2, 1, 1, 0, -1);
         y.word(2, 3, 1, 0, -1);
@@ -140,7 +140,7 @@ public final class ToldTest {
     }
 
     private static void promise4() {
-        Turnwright x = new Turnwright();
+        Talk x = new Talk();
         x.word(0, 0, 5, 0, -1);
         x.word(1, 5, 5, 0, -1);
         Check.due("the first shift", x.shift(0, -100), 0);
@@ -168,7 +168,7 @@ public final class ToldTest {
     }
 
     private static void promise5() {
-        Turnwright x = new Turnwright();
+        Talk x = new Talk();
         x.word(0, 0, 5, 0, -1);
         x.word(1, 10, 5, 5, -1);
         x.word(1, 200, 5, 0, -1);
@@ -192,7 +192,7 @@ public final class ToldTest {
     }
 
     private static void promise6() {
-        Turnwright x = new Turnwright();
+        Talk x = new Talk();
         x.word(0, 0, 5, 0, -1);
         x.word(1, 10, 5, 0, -1);
         Check.due("no code before", x.code(0, 0, 4), -1);
@@ -214,7 +214,7 @@ public final class ToldTest {
     }
 
     private static void promise6KeptByWords() {
-        Turnwright x = new Turnwright();
+        Talk x = new Talk();
         x.word(0, 100, 5, 0, -1);
         x.word(0, 120, 5, 0, -1);
         x.code(0, 0, 1);
@@ -233,7 +233,7 @@ public final class ToldTest {
     }
 
     private static void promise7() {
-        Turnwright x = new Turnwright();
+        Talk x = new Talk();
         x.word(0, 0, 5, 0, -1);
         x.word(1, 10, 5, 0, -1);
         Check.refuses("turn 2", x, INDEX, () -> x.cite(2));
@@ -248,7 +248,7 @@ public final class ToldTest {
     }
 
     private static void promise8() {
-        Turnwright x = new Turnwright();
+        Talk x = new Talk();
         Check.due("the first call", x.call(), 1);
         Check.due("the second call", x.call(), 2);
         x.word(0, 0, 5, 0, -1);

@@ -1,4 +1,4 @@
-/** Promises 21 to 26: what would be. */
+/** Promises 21 to 25: what would be. (Promise 26 has DigestTest.) */
 public final class WouldBeTest {
     private static final Class<IndexOutOfBoundsException> INDEX = IndexOutOfBoundsException.class;
 
@@ -11,14 +11,12 @@ public final class WouldBeTest {
         promise23();
         promise24();
         promise25();
-        promise26OfNothing();
-        promise26();
         nothingIsChanged();
         Check.end("WouldBeTest");
     }
 
     private static void promise21() {
-        Turnwright x = new Turnwright();
+        Talk x = new Talk();
         x.word(0, 100, 10, 0, -1);
         int[][] due = { // START, length, whether it fits
             {0, 1, 1}, {0, 50, 1}, {20000, 50, 1}, {50, 50, 1}, {110, 1, 1}, {90, 10, 1},
@@ -45,7 +43,7 @@ public final class WouldBeTest {
     }
 
     private static void promise22() {
-        Turnwright x = new Turnwright();
+        Talk x = new Talk();
         x.word(4, 0, 5, 4, 1);
         dueWouldCome("only a breath", x, -1, -1, -1, -1, -1);
         x.word(0, 100, 5, 0, -1);
@@ -62,21 +60,21 @@ public final class WouldBeTest {
         Check.refuses("speaker -1", x, INDEX, () -> x.wouldCome(-1));
     }
 
-    private static void dueWouldCome(String name, Turnwright x, int... due) {
+    private static void dueWouldCome(String name, Talk x, int... due) {
         for (int speaker = 0; speaker <= 4; speaker++) {
             Check.due(name + ": " + speaker, x.wouldCome(speaker), due[speaker]);
         }
     }
 
     private static void promise23() {
-        Turnwright x = new Turnwright();
+        Talk x = new Talk();
         x.word(0, 0, 5, 0, -1);
         dueBestRest("one word", x, 1, 1);
         x.word(0, 7, 5, 0, -1);
         dueBestRest("2 apart", x, 1, 2);
         x.rest(30);
         dueBestRest("whatever the rest is now", x, 1, 2);
-        Turnwright y = new Turnwright();
+        Talk y = new Talk();
         y.word(0, 0, 5, 3, -1);
         dueBestRest("a laugh", y, 1, 0);
         y.word(0, 35, 5, 0, -1);
@@ -86,7 +84,7 @@ public final class WouldBeTest {
 
     /** Two words within the talk of another are signs, and three that become one STRETCH are a TURN. */
     private static void bestRestThatIsLonger() {
-        Turnwright x = new Turnwright();
+        Talk x = new Talk();
         for (int word = 0; word < 3; word++) {
             x.word(0, 100 + word * 50, 50, 0, -1);
         }
@@ -100,9 +98,15 @@ public final class WouldBeTest {
         dueBestRest("30 apart, too", x, 30, 3);
         x.withdraw(2);
         dueBestRest("without those", x, 7, 2);
+        x.word(3, 160, 5, 0, -1);
+        x.word(3, 196, 5, 0, -1);
+        x.word(3, 232, 5, 0, -1);
+        dueBestRest("31 apart are not tried", x, 7, 2);
+        x.rest(30);
+        dueBestRest("31 apart, whatever the rest is now", x, 7, 2);
     }
 
-    private static void dueBestRest(String name, Turnwright x, int rest, int many) {
+    private static void dueBestRest(String name, Talk x, int rest, int many) {
         Check.due(name + ": best rest", x.bestRest(false), rest);
         Check.due(name + ": turns by it", x.bestRest(true), many);
     }
@@ -114,16 +118,17 @@ public final class WouldBeTest {
         dueBestShift("the last one ahead", 110, 130, -20);
         dueBestShift("too far ahead", 110, 131, -20);
         dueBestShift("the last one behind", 110, 90, 20);
-        Turnwright none = new Turnwright();
+        dueBestShift("too far behind", 110, 89, 20);
+        Talk none = new Talk();
         none.word(0, 0, 5, 0, -1);
         Check.due("one turn", none.bestShift(0), 0);
         Check.due("no words", none.bestShift(4), 0);
-        Turnwright own = new Turnwright();
+        Talk own = new Talk();
         own.word(1, 100, 10, 0, -1);
         own.word(1, 200, 10, 0, -1);
         Check.due("pauses do not matter", own.bestShift(1), 0);
 
-        Turnwright x = new Turnwright();
+        Talk x = new Talk();
         x.word(0, 100, 10, 0, -1);
         x.word(1, 150, 10, 0, -1);
         Check.due("as far as can be", x.bestShift(1), -20);
@@ -135,12 +140,14 @@ public final class WouldBeTest {
     }
 
     private static void dueBestShift(String name, int end, int start, int due) {
-        Turnwright x = new Turnwright();
+        Talk x = new Talk();
         x.word(0, end - 10, 10, 0, -1);
         x.word(1, start, 50, 0, -1);
         Check.due(name, x.bestShift(1), due);
-        x.shift(1, -7);
-        Check.due(name + ", in place of the shift now", x.bestShift(1), due);
+        for (int shift : new int[] {-100, -7, 20, 100}) {
+            x.shift(1, shift);
+            Check.due(name + ", in place of the shift now: " + shift, x.bestShift(1), due);
+        }
         x.shift(1, 0);
         Check.due(name + ", by moving the other one", x.bestShift(0), -due);
     }
@@ -151,7 +158,7 @@ public final class WouldBeTest {
         Check.due("the smallest of -4 to 0", shiftBetween(114), 0);
         Check.due("the smallest of -2 to 2", shiftBetween(112), 0);
         Check.due("the smallest of -6 to -2", shiftBetween(116), -2);
-        Turnwright y = new Turnwright();
+        Talk y = new Talk();
         y.word(0, 100, 3, 0, -1);
         y.word(1, 101, 1, 0, -1);
         // B ahead of A: OFF of A is 100 - (102 + s), 0 by -2; B behind A: OFF is 101 + s - 103, 0 by 2.
@@ -166,7 +173,7 @@ public final class WouldBeTest {
     }
 
     private static int shiftAtPause(int start) {
-        Turnwright x = new Turnwright();
+        Talk x = new Talk();
         x.word(0, 100, 10, 0, -1);
         x.word(0, 121, 10, 0, -1);
         x.word(1, start, 11, 0, -1);
@@ -174,7 +181,7 @@ public final class WouldBeTest {
     }
 
     private static int shiftBetween(int start) {
-        Turnwright x = new Turnwright();
+        Talk x = new Talk();
         x.word(0, 100, 10, 0, -1);
         x.word(1, start, 10, 0, -1);
         x.word(2, 124, 10, 0, -1);
@@ -182,7 +189,7 @@ public final class WouldBeTest {
     }
 
     private static void promise25() {
-        Turnwright x = new Turnwright();
+        Talk x = new Talk();
         Check.due("sound as new", x.isSound(), true);
         int[][] words = {{0, 0, 10, 5, 1}, {1, 12, 5, 6, -1}, {0, 30, 5, 0, -1}, {1, 33, 9, 1, 2}, {2, 60, 5, 3, -1},
             {3, 90, 5, 2, -1}, {3, 95, 5, 2, -1}, {3, 105, 20, 0, 1}, {4, 100, 3, 0, -1}, {1, 300, 5, 5, -1}, {2, 400, 5, 0, -1}};
@@ -205,116 +212,30 @@ public final class WouldBeTest {
         }
     }
 
-    private static void promise26OfNothing() {
-        long d = 4111;
-        for (int what = 0; what <= 21; what++) {
-            d = d * 31 + (what == 20 ? 10 : 0);
-        }
-        for (int speaker = 0; speaker <= 4; speaker++) {
-            d = d * 31 + 0;
-            d = d * 31 - 1;
-            d = d * 31 + 0;
-            for (int value = 0; value < 12; value++) {
-                d = d * 31;
-            }
-        }
-        long[] end = {0, 0, 1, 0, 64, 1};
-        for (long value : end) {
-            d = d * 31 + value;
-        }
-        Check.due("digest of nothing", new Turnwright().digest(), d);
-    }
-
-    private static void promise26() {
-        Turnwright x = new Turnwright();
-        x.word(0, 0, 10, 5, 1);
-        dueDigest("a question", x);
-        x.word(1, 14, 5, 2, -1);
-        x.word(1, 20, 5, 1, 3);
-        x.word(2, 23, 5, 3, -1);
-        x.word(2, 29, 9, 6, -1);
-        x.word(3, 45, 5, 0, -1);
-        x.word(0, 60, 5, 0, -1);
-        dueDigest("more", x);
-        x.code(0, 0, 1);
-        x.code(1, 0, 2);
-        x.code(0, 1, 2);
-        x.code(1, 1, 1);
-        dueDigest("an agreement below 0", x);
-        x.code(1, 1, 2);
-        x.code(0, 2, 4);
-        x.code(1, 2, 0);
-        dueDigest("an agreement that is cut", x);
-        x.cite(2);
-        x.cite(0);
-        x.call();
-        x.shift(2, -40);
-        dueDigest("cites", x);
-        x.withdraw(0);
-        dueDigest("one withdrawn", x);
-        x.rest(30);
-        dueDigest("a rest", x);
-        Turnwright close = new Turnwright();
-        for (int word = 0; word < 40; word++) {
-            close.word(word % 3, word * 5, 7, word % 7, (word + 1) % 3);
-            dueDigest("close " + word, close);
-        }
-        close.rest(1);
-        dueDigest("close, by a rest of 1", close);
-        Check.due("some are smooth", close.test(false) > 0, true);
-        Check.due("some are smooth, shuffled", close.test(true) > 0, true);
-    }
-
-    private static void dueDigest(String name, Turnwright x) {
-        long d = 4111;
-        for (int what = 0; what <= 21; what++) {
-            d = d * 31 + x.talk(what);
-        }
-        for (int word = 0; word < x.talk(0); word++) {
-            d = ((d * 31 + x.ofWord(word, 1)) * 31 + x.ofWord(word, 5)) * 31 + x.ofWord(word, 6);
-            d = d * 31 + x.ofWord(word, 7);
-        }
-        for (int turn = 0; turn < x.talk(3); turn++) {
-            for (int what = 0; what <= 15; what++) {
-                d = d * 31 + x.ofTurn(turn, what);
-            }
-            for (int what = 0; what <= 2; what++) {
-                d = d * 31 + x.ofQuestion(turn, what);
-            }
-        }
-        for (int one = 0; one <= 4; one++) {
-            d = ((d * 31 + x.said(one)) * 31 + x.wouldCome(one)) * 31 + x.bestShift(one);
-            for (int two = 0; two <= 4; two++) {
-                for (int what = 0; one != two && what <= 2; what++) {
-                    d = d * 31 + x.between(one, two, what);
-                }
-            }
-        }
-        d = (d * 31 + x.test(false)) * 31 + x.test(true);
-        for (int cite = 0; cite < x.talk(19); cite++) {
-            d = d * 31 + x.cited(cite);
-        }
-        d = (d * 31 + x.bestRest(false)) * 31 + x.bestRest(true);
-        d = d * 31 + (long) (64 * x.agreement());
-        d = d * 31 + (x.isSound() ? 1 : 0);
-        Check.due("digest, " + name, x.digest(), d);
-    }
-
+    /** What is asked, and what would be: a call of each is told again with all else, and nothing is changed. */
     private static void nothingIsChanged() {
-        Turnwright x = new Turnwright();
-        x.word(0, 0, 10, 5, 1);
-        x.word(0, 12, 10, 0, -1);
-        x.word(1, 14, 5, 0, -1);
-        x.word(1, 40, 5, 1, -1);
+        Talk x = new Talk().say(0, 0, 10, 5, 1).say(0, 12, 10, 0, -1).say(1, 14, 5, 0, -1).say(1, 40, 5, 1, -1);
         x.shift(1, 9);
         x.rest(7);
+        x.cite(1);
         String before = Check.state(x);
-        for (int speaker = 0; speaker <= 4; speaker++) {
-            x.fits(speaker, 100, 10);
-            x.wouldCome(speaker);
-            x.bestShift(speaker);
-            x.bestRest(speaker == 0);
-            Check.due("what would be changes nothing", Check.state(x), before);
+        for (int one = 0; one <= 4; one++) {
+            int speaker = one;
+            int other = (one + 1) % 5;
+            x.tell(t -> t.fits(speaker, 100, 10));
+            x.tell(t -> t.wouldCome(speaker));
+            x.tell(t -> t.bestShift(speaker));
+            x.tell(t -> t.said(speaker) + t.floor(speaker));
+            x.tell(t -> t.mean(speaker, other) + t.between(speaker, other, 1));
+            Check.due("asking of a speaker changes nothing", Check.state(x), before);
         }
+        x.tell(t -> t.bestRest(true));
+        x.tell(t -> t.bestRest(false));
+        x.tell(t -> t.isSound());
+        x.tell(t -> t.digest());
+        x.tell(t -> t.test(true) + t.test(false) + t.agreement());
+        x.tell(t -> t.row(0) + t.row(1));
+        x.tell(t -> t.cited(0) + t.ofTurn(1, 7) + t.ofQuestion(0, 2) + t.ofWord(0, 7) + t.talk(21));
+        Check.due("asking of all changes nothing", Check.state(x), before);
     }
 }

@@ -543,6 +543,10 @@ public final class BoundsTest {
             Check.due("unanswered", x.talk(14), isAnswered ? 0 : 1);
             Talk then = new Talk().say(0, 0, 10, 5, -1).say(1, 10 + behind, 12, 0, -1).say(2, 10 + behind, 12, 0, -1);
             Check.due("taken off all the same", then.ofTurn(2, 13), -1);
+            // D asks E, and A asks: E starts 50 behind the END of D as B starts 51 behind that of A.
+            Talk below = new Talk().say(3, 400, 40, 5, 4).say(0, 410, 10, 5, -1).say(1, 420 + Math.max(0, behind), 12, 0, -1);
+            below.say(4, 439 + Math.max(0, behind), 12, 0, -1);
+            Check.due("the one below it, by another " + behind + " behind", below.ofTurn(3, 13), behind <= 51 ? 0 : -1);
         }
     }
 

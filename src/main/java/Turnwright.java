@@ -129,20 +129,20 @@ public final class Turnwright {
         if (shift < -MOST_SHIFT || shift > MOST_SHIFT) {
             throw new IllegalArgumentException("shift is not -100 to 100");
         }
-        int before = channels.shifts[speaker];
-        channels.shifts[speaker] = shift;
+        int before = at(channels.shifts, speaker);
+        put(channels.shifts, speaker, shift);
         readAgain();
         return before;
     }
 
     public int withdraw(int speaker) throws IndexOutOfBoundsException, IllegalStateException {
         requireSpeaker(speaker);
-        if (channels.areWithdrawn[speaker]) {
+        if (channels.isWithdrawn(speaker)) {
             throw new IllegalStateException("the speaker is withdrawn");
         }
-        channels.areWithdrawn[speaker] = true;
+        channels.takeOut(speaker);
         readAgain();
-        return channels.sizes[speaker];
+        return at(channels.sizes, speaker);
     }
 
     public int code(int coder, int turn, int code) throws IndexOutOfBoundsException, IllegalArgumentException {
@@ -153,9 +153,9 @@ public final class Turnwright {
         if (code < 0 || code >= CODES) {
             throw new IllegalArgumentException("code is not 0 to 4");
         }
-        int first = turns.facts[FIRST][turn];
-        int before = channels.codes[coder][first];
-        channels.codes[coder][first] = code;
+        int first = at(turns.facts, FIRST, turn);
+        int before = at(channels.codes, coder, first);
+        put(channels.codes, coder, first, code);
         readAgain();
         return before;
     }
@@ -165,7 +165,7 @@ public final class Turnwright {
         if (citeCount >= MOST_CITES) {
             throw new IllegalStateException("there are 20 cites");
         }
-        citedWords[citeCount] = turns.facts[FIRST][turn];
+        put(citedWords, citeCount, at(turns.facts, FIRST, turn));
         citeCount++;
         return citeCount - 1;
     }
@@ -188,13 +188,13 @@ public final class Turnwright {
     public int ofTurn(int turn, int what) throws IndexOutOfBoundsException, IllegalArgumentException {
         requireTurn(turn);
         requireAsk(what, TURN_ASKS);
-        return turns.facts[what][turn];
+        return at(turns.facts, what, turn);
     }
 
     public int ofQuestion(int turn, int what) throws IndexOutOfBoundsException, IllegalArgumentException {
         requireTurn(turn);
         requireAsk(what, QUESTION_ASKS);
-        return pairs.facts[what][turn];
+        return at(pairs.facts, what, turn);
     }
 
     public int talk(int what) throws IllegalArgumentException {
@@ -250,7 +250,7 @@ public final class Turnwright {
         if (cite < 0 || cite >= citeCount) {
             throw new IndexOutOfBoundsException("there is no such cite");
         }
-        return now.turnWith(citedWords[cite]);
+        return now.turnWith(at(citedWords, cite));
     }
 
     public String row(int turn) throws IndexOutOfBoundsException {
@@ -258,7 +258,7 @@ public final class Turnwright {
         StringBuilder text = new StringBuilder();
         text.append(turn).append(' ').append((char) ('A' + now.turn(turn).speaker)).append(": ");
         appendWords(text, now.turn(turn));
-        int passage = turn + 1 < now.turnCount ? turns.facts[PASSAGE][turn + 1] : NONE;
+        int passage = turn + 1 < now.turnCount ? at(turns.facts, PASSAGE, turn + 1) : NONE;
         if (passage == OVERLAP) {
             text.append(']');
         } else if (passage == LATCH) {
@@ -313,8 +313,9 @@ public final class Turnwright {
         d = withSpeakers(d);
         d = d * 31 + test(false);
         d = d * 31 + test(true);
-        for (int cite = 0; cite < citeCount; cite++) {
-            d = d * 31 + now.turnWith(citedWords[cite]);
+        int all = citeCount;
+        for (int cite = 0; cite < all; cite++) {
+            d = d * 31 + now.turnWith(at(citedWords, cite));
         }
         d = d * 31 + bestRest(false);
         d = d * 31 + bestRest(true);
@@ -354,10 +355,38 @@ public final class Turnwright {
         return start >= 0 && start <= LAST_START && length >= 1 && length <= LONGEST_WORD;
     }
 
+    // ---- rows of numbers: each place is looked at here, so that no index is ever used unseen
+
+    /** The number at a place; NONE, if the row has no such place. */
+    private static int at(int[] row, int place) {
+        return place >= 0 && place < row.length ? row[place] : NONE;
+    }
+
+    private static int at(int[][] rows, int row, int place) {
+        return row >= 0 && row < rows.length && place >= 0 && place < rows[row].length ? rows[row][place] : NONE;
+    }
+
+    /** Puts a number at a place; nothing happens, if the row has no such place. */
+    private static void put(int[] row, int place, int number) {
+        if (place >= 0 && place < row.length) {
+            row[place] = number;
+        }
+    }
+
+    private static void put(int[][] rows, int row, int place, int number) {
+        if (row >= 0 && row < rows.length && place >= 0 && place < rows[row].length) {
+            rows[row][place] = number;
+        }
+    }
+
     // ---- what lies behind the answers
 
     private static boolean isAmong(int kind, int kinds) {
         return ((1 << kind) & kinds) != 0;
+    }
+
+    private static char signOf(int kind) {
+        return kind >= 0 && kind < KIND_SIGNS.length() ? KIND_SIGNS.charAt(kind) : ' ';
     }
 
     private void readAgain() {
@@ -368,14 +397,14 @@ public final class Turnwright {
     }
 
     private int wordAnswer(int number, int what) {
-        Word word = channels.words[number];
+        Word word = channels.wordWith(number);
         switch (what) {
             case 0: return word.speaker;
-            case 1: return word.start + channels.shifts[word.speaker];
-            case 2: return word.end + channels.shifts[word.speaker];
+            case 1: return word.start + at(channels.shifts, word.speaker);
+            case 2: return word.end + at(channels.shifts, word.speaker);
             case 3: return word.kind;
             case 4: return word.look;
-            case 5: return channels.areWithdrawn[word.speaker] ? 0 : 1;
+            case 5: return channels.isWithdrawn(word.speaker) ? 0 : 1;
             case 6: return now.turnWith(number);
             default: return now.sizeWith(number);
         }
@@ -409,7 +438,8 @@ public final class Turnwright {
     }
 
     private void appendWords(StringBuilder text, Stretch stretch) {
-        for (int place = 0; place < stretch.size; place++) {
+        int size = stretch.size;
+        for (int place = 0; place < size; place++) {
             Word word = now.wordOf(stretch, place);
             if (place > 0) {
                 int hush = Math.min(3, word.start - now.wordOf(stretch, place - 1).end);
@@ -417,13 +447,13 @@ public final class Turnwright {
                     text.append('_');
                 }
             }
-            text.append(KIND_SIGNS.charAt(word.kind));
+            text.append(signOf(word.kind));
         }
     }
 
     /** Tries 0, -1, 1, -2, 2 and so on, so that of several with the least sum the due one comes first. */
     private int leastShift(int speaker) {
-        if (channels.areWithdrawn[speaker] || channels.sizes[speaker] == 0) {
+        if (channels.isWithdrawn(speaker) || at(channels.sizes, speaker) == 0) {
             return 0;
         }
         int best = 0;
@@ -453,7 +483,8 @@ public final class Turnwright {
 
     private long withWords(long before) {
         long d = before;
-        for (int word = 0; word < channels.count; word++) {
+        int all = channels.count;
+        for (int word = 0; word < all; word++) {
             d = d * 31 + wordAnswer(word, 1);
             d = d * 31 + wordAnswer(word, 5);
             d = d * 31 + wordAnswer(word, 6);
@@ -464,12 +495,13 @@ public final class Turnwright {
 
     private long withTurns(long before) {
         long d = before;
-        for (int turn = 0; turn < now.turnCount; turn++) {
+        int all = now.turnCount;
+        for (int turn = 0; turn < all; turn++) {
             for (int what = 0; what < TURN_ASKS; what++) {
-                d = d * 31 + turns.facts[what][turn];
+                d = d * 31 + at(turns.facts, what, turn);
             }
             for (int what = 0; what < QUESTION_ASKS; what++) {
-                d = d * 31 + pairs.facts[what][turn];
+                d = d * 31 + at(pairs.facts, what, turn);
             }
         }
         return d;
@@ -507,6 +539,8 @@ public final class Turnwright {
     /** What was told of the WORDS, and of each SPEAKER their order on its channel. */
     private static final class Channels {
         final Word[] words = new Word[MOST_WORDS];
+        /** Stands in where there is no WORD, so that no reference is ever null. */
+        final Word noWord = new Word();
         final int[][] codes = new int[CODERS][MOST_WORDS];
         final int[][] orders = new int[SPEAKERS][MOST_WORDS];
         final int[] sizes = new int[SPEAKERS];
@@ -515,25 +549,41 @@ public final class Turnwright {
         int count;
 
         Channels() {
-            for (int number = 0; number < MOST_WORDS; number++) {
+            for (int number = 0; number < words.length; number++) {
                 words[number] = new Word();
             }
-            for (int coder = 0; coder < CODERS; coder++) {
-                Arrays.fill(codes[coder], NONE);
+            for (int[] byCoder : codes) {
+                Arrays.fill(byCoder, NONE);
             }
         }
 
-        Word at(int speaker, int place) {
-            return words[orders[speaker][place]];
+        Word wordWith(int number) {
+            Word word = number >= 0 && number < words.length ? words[number] : noWord;
+            return word == null ? noWord : word;
+        }
+
+        Word wordAt(int speaker, int place) {
+            return wordWith(at(orders, speaker, place));
+        }
+
+        boolean isWithdrawn(int speaker) {
+            return speaker >= 0 && speaker < areWithdrawn.length && areWithdrawn[speaker];
+        }
+
+        void takeOut(int speaker) {
+            if (speaker >= 0 && speaker < areWithdrawn.length) {
+                areWithdrawn[speaker] = true;
+            }
         }
 
         boolean hasRoom(int speaker, int start, int end) {
-            return count < MOST_WORDS && !areWithdrawn[speaker] && isFree(speaker, start, end);
+            return count < MOST_WORDS && !isWithdrawn(speaker) && isFree(speaker, start, end);
         }
 
         private boolean isFree(int speaker, int start, int end) {
-            for (int place = 0; place < sizes[speaker]; place++) {
-                Word other = at(speaker, place);
+            int size = at(sizes, speaker);
+            for (int place = 0; place < size; place++) {
+                Word other = wordAt(speaker, place);
                 if (other.start < end && start < other.end) {
                     return false;
                 }
@@ -543,7 +593,7 @@ public final class Turnwright {
 
         /** Keeps a WORD for which there is room. */
         int add(int speaker, int start, int end, int kind, int look) {
-            Word word = words[count];
+            Word word = wordWith(count);
             word.number = count;
             word.speaker = speaker;
             word.start = start;
@@ -555,29 +605,31 @@ public final class Turnwright {
             return word.number;
         }
 
+        /** Moves all that start later up by one place, from the last one on. */
         private void insert(Word word) {
-            int[] order = orders[word.speaker];
-            int place = sizes[word.speaker];
-            while (place > 0 && words[order[place - 1]].start > word.start) {
-                order[place] = order[place - 1];
-                place--;
+            int size = at(sizes, word.speaker);
+            int free = size;
+            for (int place = size - 1; place >= 0 && wordAt(word.speaker, place).start > word.start; place--) {
+                put(orders, word.speaker, place + 1, at(orders, word.speaker, place));
+                free = place;
             }
-            order[place] = word.number;
-            sizes[word.speaker]++;
+            put(orders, word.speaker, free, word.number);
+            put(sizes, word.speaker, size + 1);
         }
 
         int counting() {
             int many = 0;
             for (int speaker = 0; speaker < SPEAKERS; speaker++) {
-                many += areWithdrawn[speaker] ? 0 : sizes[speaker];
+                many += isWithdrawn(speaker) ? 0 : at(sizes, speaker);
             }
             return many;
         }
 
         int talkTime(int speaker) {
             int time = 0;
-            for (int place = 0; place < sizes[speaker] && !areWithdrawn[speaker]; place++) {
-                Word word = at(speaker, place);
+            int size = isWithdrawn(speaker) ? 0 : at(sizes, speaker);
+            for (int place = 0; place < size; place++) {
+                Word word = wordAt(speaker, place);
                 time += word.isOf(TALK_KINDS) ? word.end - word.start : 0;
             }
             return time;
@@ -585,8 +637,9 @@ public final class Turnwright {
 
         boolean areApart() {
             for (int speaker = 0; speaker < SPEAKERS; speaker++) {
-                for (int place = 1; place < sizes[speaker]; place++) {
-                    if (at(speaker, place - 1).end > at(speaker, place).start) {
+                int size = at(sizes, speaker);
+                for (int place = 1; place < size; place++) {
+                    if (wordAt(speaker, place - 1).end > wordAt(speaker, place).start) {
                         return false;
                     }
                 }
@@ -611,6 +664,8 @@ public final class Turnwright {
     private static final class Stretches {
         final Channels channels;
         final Stretch[] stretches = new Stretch[MOST_WORDS];
+        /** Stands in where there is no STRETCH, so that no reference is ever null. */
+        final Stretch noStretch = new Stretch();
         /** By SPEAKER the number of its first STRETCH; behind the last SPEAKER how many there are. */
         final int[] firsts = new int[SPEAKERS + 1];
         final int[] heads = new int[SPEAKERS];
@@ -623,17 +678,22 @@ public final class Turnwright {
 
         Stretches(Channels channels) {
             this.channels = channels;
-            for (int number = 0; number < MOST_WORDS; number++) {
+            for (int number = 0; number < stretches.length; number++) {
                 stretches[number] = new Stretch();
             }
         }
 
+        Stretch stretchWith(int number) {
+            Stretch stretch = number >= 0 && number < stretches.length ? stretches[number] : noStretch;
+            return stretch == null ? noStretch : stretch;
+        }
+
         Stretch turn(int turn) {
-            return stretches[turnStretches[turn]];
+            return stretchWith(at(turnStretches, turn));
         }
 
         Word wordOf(Stretch stretch, int place) {
-            return channels.at(stretch.speaker, stretch.firstPlace + place);
+            return channels.wordWith(at(channels.orders, stretch.speaker, stretch.firstPlace + place));
         }
 
         Word lastWordOf(Stretch stretch) {
@@ -641,19 +701,20 @@ public final class Turnwright {
         }
 
         int turnWith(int word) {
-            int stretch = stretchesOfWords[word];
-            return stretch == NONE ? NONE : stretches[stretch].turn;
+            int stretch = at(stretchesOfWords, word);
+            return stretch == NONE ? NONE : stretchWith(stretch).turn;
         }
 
         int sizeWith(int word) {
-            int stretch = stretchesOfWords[word];
-            return stretch == NONE ? 0 : stretches[stretch].size;
+            int stretch = at(stretchesOfWords, word);
+            return stretch == NONE ? 0 : stretchWith(stretch).size;
         }
 
         int countOf(int sort) {
             int many = 0;
-            for (int number = 0; number < count; number++) {
-                many += stretches[number].sort == sort ? 1 : 0;
+            int all = count;
+            for (int number = 0; number < all; number++) {
+                many += stretchWith(number).sort == sort ? 1 : 0;
             }
             return many;
         }
@@ -663,30 +724,31 @@ public final class Turnwright {
             Arrays.fill(stretchesOfWords, NONE);
             count = 0;
             for (int speaker = 0; speaker < SPEAKERS; speaker++) {
-                firsts[speaker] = count;
-                if (!channels.areWithdrawn[speaker]) {
+                put(firsts, speaker, count);
+                if (!channels.isWithdrawn(speaker)) {
                     gatherOf(speaker, rest);
                 }
             }
-            firsts[SPEAKERS] = count;
+            put(firsts, SPEAKERS, count);
             findLongOnes();
         }
 
         private void gatherOf(int speaker, int rest) {
-            for (int place = 0; place < channels.sizes[speaker]; place++) {
-                Word word = channels.at(speaker, place);
-                if (place == 0 || word.start - channels.at(speaker, place - 1).end > rest) {
+            int size = at(channels.sizes, speaker);
+            for (int place = 0; place < size; place++) {
+                Word word = channels.wordAt(speaker, place);
+                if (place == 0 || word.start - channels.wordAt(speaker, place - 1).end > rest) {
                     open(speaker, place);
                 }
-                Stretch stretch = stretches[count - 1];
+                Stretch stretch = stretchWith(count - 1);
                 stretch.size++;
                 stretch.kinds |= 1 << word.kind;
-                stretchesOfWords[word.number] = count - 1;
+                put(stretchesOfWords, word.number, count - 1);
             }
         }
 
         private void open(int speaker, int place) {
-            Stretch stretch = stretches[count];
+            Stretch stretch = stretchWith(count);
             stretch.speaker = speaker;
             stretch.firstPlace = place;
             stretch.size = 0;
@@ -696,9 +758,10 @@ public final class Turnwright {
 
         private void findLongOnes() {
             longCount = 0;
-            for (int number = 0; number < count; number++) {
-                if (stretches[number].size >= 3) {
-                    longOnes[longCount] = number;
+            int all = count;
+            for (int number = 0; number < all; number++) {
+                if (stretchWith(number).size >= 3) {
+                    put(longOnes, longCount, number);
                     longCount++;
                 }
             }
@@ -706,14 +769,16 @@ public final class Turnwright {
 
         /** Sorts the STRETCHES and numbers the TURNS, with another SHIFT for the one who is moved (NONE). */
         void arrange(int moved, int shift) {
-            for (int number = 0; number < count; number++) {
-                Stretch stretch = stretches[number];
-                int added = stretch.speaker == moved ? shift : channels.shifts[stretch.speaker];
+            int all = count;
+            for (int number = 0; number < all; number++) {
+                Stretch stretch = stretchWith(number);
+                int added = stretch.speaker == moved ? shift : at(channels.shifts, stretch.speaker);
                 stretch.start = wordOf(stretch, 0).start + added;
                 stretch.end = lastWordOf(stretch).end + added;
             }
-            for (int number = 0; number < count; number++) {
-                stretches[number].sort = sortOf(stretches[number]);
+            for (int number = 0; number < all; number++) {
+                Stretch stretch = stretchWith(number);
+                stretch.sort = sortOf(stretch);
             }
             numberTurns();
         }
@@ -726,8 +791,9 @@ public final class Turnwright {
         }
 
         private boolean isWithinAnother(Stretch stretch) {
-            for (int index = 0; index < longCount; index++) {
-                Stretch other = stretches[longOnes[index]];
+            int all = longCount;
+            for (int index = 0; index < all; index++) {
+                Stretch other = stretchWith(at(longOnes, index));
                 if (other.speaker != stretch.speaker && other.start <= stretch.start && other.end >= stretch.end) {
                     return true;
                 }
@@ -738,15 +804,16 @@ public final class Turnwright {
         private void numberTurns() {
             turnCount = 0;
             for (int speaker = 0; speaker < SPEAKERS; speaker++) {
-                heads[speaker] = firsts[speaker];
+                put(heads, speaker, at(firsts, speaker));
             }
-            for (int taken = 0; taken < count; taken++) {
+            int all = count;
+            for (int taken = 0; taken < all; taken++) {
                 int number = takeEarliest();
-                Stretch stretch = stretches[number];
+                Stretch stretch = stretchWith(number);
                 stretch.turn = NONE;
                 if (stretch.sort == TURN) {
                     stretch.turn = turnCount;
-                    turnStretches[turnCount] = number;
+                    put(turnStretches, turnCount, number);
                     turnCount++;
                 }
             }
@@ -757,23 +824,22 @@ public final class Turnwright {
             int earliest = 0;
             int taker = NONE;
             for (int speaker = 0; speaker < SPEAKERS; speaker++) {
-                int head = heads[speaker];
-                if (head < firsts[speaker + 1]
-                        && (taker == NONE || stretches[head].start < stretches[earliest].start)) {
+                int head = at(heads, speaker);
+                if (head < at(firsts, speaker + 1)
+                        && (taker == NONE || stretchWith(head).start < stretchWith(earliest).start)) {
                     earliest = head;
                     taker = speaker;
                 }
             }
-            if (taker != NONE) {
-                heads[taker]++;
-            }
+            put(heads, taker, at(heads, taker) + 1);
             return earliest;
         }
 
         /** The sum of ABS of OFF of all TURNS with another SPEAKER than the one ahead. */
         int sumOfOffs() {
             int sum = 0;
-            for (int number = 1; number < turnCount; number++) {
+            int all = turnCount;
+            for (int number = 1; number < all; number++) {
                 Stretch ahead = turn(number - 1);
                 Stretch turn = turn(number);
                 sum += turn.speaker == ahead.speaker ? 0 : Math.abs(turn.start - ahead.end);
@@ -783,8 +849,9 @@ public final class Turnwright {
 
         int selfRepairs(boolean isDone) {
             int many = 0;
-            for (int number = 0; number < count; number++) {
-                many += selfRepairsOf(stretches[number], isDone);
+            int all = count;
+            for (int number = 0; number < all; number++) {
+                many += selfRepairsOf(stretchWith(number), isDone);
             }
             return many;
         }
@@ -821,7 +888,8 @@ public final class Turnwright {
         }
 
         void read() {
-            for (int turn = 0; turn < count(); turn++) {
+            int all = count();
+            for (int turn = 0; turn < all; turn++) {
                 readAlone(turn, stretches.turn(turn));
                 readPassage(turn);
                 readConduct(turn, stretches.turn(turn));
@@ -830,16 +898,16 @@ public final class Turnwright {
 
         private void readAlone(int turn, Stretch stretch) {
             int first = stretches.wordOf(stretch, 0).number;
-            facts[SPEAKER][turn] = stretch.speaker;
-            facts[START][turn] = stretch.start;
-            facts[END][turn] = stretch.end;
-            facts[SIZE][turn] = stretch.size;
-            facts[FIRST][turn] = first;
-            facts[NEXT][turn] = lastLookOf(stretch);
-            facts[ASKS][turn] = stretches.lastWordOf(stretch).isOf(ASKING_KINDS) ? 1 : 0;
-            facts[QUESTION][turn] = NONE;
+            put(facts, SPEAKER, turn, stretch.speaker);
+            put(facts, START, turn, stretch.start);
+            put(facts, END, turn, stretch.end);
+            put(facts, SIZE, turn, stretch.size);
+            put(facts, FIRST, turn, first);
+            put(facts, NEXT, turn, lastLookOf(stretch));
+            put(facts, ASKS, turn, stretches.lastWordOf(stretch).isOf(ASKING_KINDS) ? 1 : 0);
+            put(facts, QUESTION, turn, NONE);
             for (int coder = 0; coder < CODERS; coder++) {
-                facts[CODE + coder][turn] = channels.codes[coder][first];
+                put(facts, CODE + coder, turn, at(channels.codes, coder, first));
             }
         }
 
@@ -855,12 +923,14 @@ public final class Turnwright {
 
         private void readPassage(int turn) {
             int passage = passageOf(turn);
-            facts[OFF][turn] = offOf(turn, 1);
-            facts[PASSAGE][turn] = passage;
-            facts[LASTING][turn] = 0;
-            if (passage == OVERLAP) {
-                facts[LASTING][turn] = Math.min(facts[END][turn], facts[END][turn - 1]) - facts[START][turn];
-            }
+            put(facts, OFF, turn, offOf(turn, 1));
+            put(facts, PASSAGE, turn, passage);
+            put(facts, LASTING, turn, passage == OVERLAP ? lastingOf(turn) : 0);
+        }
+
+        /** How long an OVERLAP lasts. */
+        private int lastingOf(int turn) {
+            return Math.min(at(facts, END, turn), at(facts, END, turn - 1)) - at(facts, START, turn);
         }
 
         private int passageOf(int turn) {
@@ -879,31 +949,31 @@ public final class Turnwright {
 
         /** The START less the END of the TURN so many numbers below; 0 without one. */
         private int offOf(int turn, int below) {
-            return turn < below ? 0 : facts[START][turn] - facts[END][turn - below];
+            return turn < below ? 0 : at(facts, START, turn) - at(facts, END, turn - below);
         }
 
         /** Whether both have one SPEAKER; false, if there is no TURN so many numbers below. */
         private boolean isSameSpeaker(int turn, int below) {
-            return turn >= below && facts[SPEAKER][turn] == facts[SPEAKER][turn - below];
+            return turn >= below && at(facts, SPEAKER, turn) == at(facts, SPEAKER, turn - below);
         }
 
         private void readConduct(int turn, Stretch stretch) {
             int way = turn == 0 ? NONE : wayBehind(turn - 1, stretch.speaker);
-            boolean isInterrupting = facts[PASSAGE][turn] == OVERLAP
+            boolean isInterrupting = at(facts, PASSAGE, turn) == OVERLAP
                     && !hasPointNear(stretches.turn(turn - 1), stretch.start);
             boolean isExcused = stretches.wordOf(stretch, 0).isOf(EXCUSING_KINDS)
                     && (isInterrupting || way == AGAINST);
-            facts[WAY][turn] = way;
-            facts[INTERRUPTS][turn] = isInterrupting ? 1 : 0;
-            facts[EXCUSED][turn] = isExcused ? 1 : 0;
+            put(facts, WAY, turn, way);
+            put(facts, INTERRUPTS, turn, isInterrupting ? 1 : 0);
+            put(facts, EXCUSED, turn, isExcused ? 1 : 0);
         }
 
         private int wayBehind(int ahead, int speaker) {
-            int next = facts[NEXT][ahead];
+            int next = at(facts, NEXT, ahead);
             if (next == speaker) {
                 return CHOSEN;
             }
-            if (facts[SPEAKER][ahead] == speaker) {
+            if (at(facts, SPEAKER, ahead) == speaker) {
                 return GOING_ON;
             }
             return next == NONE ? TAKEN : AGAINST;
@@ -916,7 +986,8 @@ public final class Turnwright {
         /** Looks at times with SHIFT: those of the WORDS are moved as those of their STRETCH are. */
         private boolean hasPointNear(Stretch stretch, int time) {
             int added = stretch.start - stretches.wordOf(stretch, 0).start;
-            for (int place = 0; place < stretch.size; place++) {
+            int size = stretch.size;
+            for (int place = 0; place < size; place++) {
                 Word word = stretches.wordOf(stretch, place);
                 if (word.isOf(POINT_KINDS) && Math.abs(word.end + added - time) <= 3) {
                     return true;
@@ -928,8 +999,9 @@ public final class Turnwright {
         /** How many TURNS there are to which ofTurn answers so. */
         int countThat(int what, int answer) {
             int many = 0;
-            for (int turn = 0; turn < count(); turn++) {
-                many += facts[what][turn] == answer ? 1 : 0;
+            int all = count();
+            for (int turn = 0; turn < all; turn++) {
+                many += at(facts, what, turn) == answer ? 1 : 0;
             }
             return many;
         }
@@ -937,8 +1009,10 @@ public final class Turnwright {
         /** How many of the TURNS that have both CODES have these; NONE stands for any. */
         int codedTwice(int byFirst, int bySecond) {
             int many = 0;
-            for (int turn = 0; turn < count(); turn++) {
-                many += isCode(facts[CODE][turn], byFirst) && isCode(facts[CODE + 1][turn], bySecond) ? 1 : 0;
+            int all = count();
+            for (int turn = 0; turn < all; turn++) {
+                boolean isSo = isCode(at(facts, CODE, turn), byFirst) && isCode(at(facts, CODE + 1, turn), bySecond);
+                many += isSo ? 1 : 0;
             }
             return many;
         }
@@ -950,8 +1024,9 @@ public final class Turnwright {
         /** From the one SPEAKER to the other: 0 how many TURNS, 1 the sum of OFF, 2 how many OVERLAPS. */
         int following(int one, int two, int what) {
             int sum = 0;
-            for (int turn = 1; turn < count(); turn++) {
-                if (facts[SPEAKER][turn - 1] == one && facts[SPEAKER][turn] == two) {
+            int all = count();
+            for (int turn = 1; turn < all; turn++) {
+                if (at(facts, SPEAKER, turn - 1) == one && at(facts, SPEAKER, turn) == two) {
                     sum += shareOf(turn, what);
                 }
             }
@@ -963,15 +1038,16 @@ public final class Turnwright {
                 return 1;
             }
             if (what == 1) {
-                return facts[OFF][turn];
+                return at(facts, OFF, turn);
             }
-            return facts[PASSAGE][turn] == OVERLAP ? 1 : 0;
+            return at(facts, PASSAGE, turn) == OVERLAP ? 1 : 0;
         }
 
         /** How many TURNS follow that of another SPEAKER so many numbers below with -2 to 4 between them. */
         int smoothFrom(int below) {
             int many = 0;
-            for (int turn = below; turn < count(); turn++) {
+            int all = count();
+            for (int turn = below; turn < all; turn++) {
                 int off = offOf(turn, below);
                 many += !isSameSpeaker(turn, below) && off >= -2 && off <= 4 ? 1 : 0;
             }
@@ -980,7 +1056,8 @@ public final class Turnwright {
 
         int otherRepairs(boolean isDone) {
             int many = 0;
-            for (int turn = 0; turn < count(); turn++) {
+            int all = count();
+            for (int turn = 0; turn < all; turn++) {
                 if (stretches.lastWordOf(stretches.turn(turn)).kind == WHAT && (!isDone || isMended(turn))) {
                     many++;
                 }
@@ -991,12 +1068,12 @@ public final class Turnwright {
         private boolean isMended(int turn) {
             int trouble = troubleOf(turn);
             return trouble != NONE && turn + 1 < count()
-                    && facts[SPEAKER][turn + 1] == facts[SPEAKER][trouble];
+                    && at(facts, SPEAKER, turn + 1) == at(facts, SPEAKER, trouble);
         }
 
         private int troubleOf(int turn) {
             for (int ahead = turn - 1; ahead >= 0; ahead--) {
-                if (facts[SPEAKER][ahead] != facts[SPEAKER][turn]) {
+                if (at(facts, SPEAKER, ahead) != at(facts, SPEAKER, turn)) {
                     return ahead;
                 }
             }
@@ -1017,63 +1094,72 @@ public final class Turnwright {
         }
 
         void match() {
-            Arrays.fill(facts[ANSWER], NONE);
-            Arrays.fill(facts[DELAY], NONE);
-            Arrays.fill(facts[INSERTS], 0);
             waiting = 0;
-            for (int turn = 0; turn < turns.count(); turn++) {
-                if (turns.facts[ASKS][turn] == 1) {
-                    heap[waiting] = turn;
+            int all = turns.count();
+            for (int turn = 0; turn < all; turn++) {
+                note(turn, NONE, NONE, 0);
+                if (at(turns.facts, ASKS, turn) == 1) {
+                    put(heap, waiting, turn);
                     waiting++;
-                } else if (waiting > 0 && mayAnswer(turn, heap[waiting - 1])) {
+                } else if (waiting > 0 && mayAnswer(turn, at(heap, waiting - 1))) {
                     waiting--;
-                    pair(heap[waiting], turn);
+                    pair(at(heap, waiting), turn);
                 }
             }
         }
 
+        private void note(int question, int answer, int delay, int inserts) {
+            put(facts, ANSWER, question, answer);
+            put(facts, DELAY, question, delay);
+            put(facts, INSERTS, question, inserts);
+        }
+
         private boolean mayAnswer(int turn, int question) {
-            int speaker = turns.facts[SPEAKER][turn];
-            int next = turns.facts[NEXT][question];
-            return speaker != turns.facts[SPEAKER][question] && (next == NONE || next == speaker);
+            int speaker = at(turns.facts, SPEAKER, turn);
+            int next = at(turns.facts, NEXT, question);
+            return speaker != at(turns.facts, SPEAKER, question) && (next == NONE || next == speaker);
         }
 
         private void pair(int question, int turn) {
-            int delay = turns.facts[START][turn] - turns.facts[END][question];
+            int delay = at(turns.facts, START, turn) - at(turns.facts, END, question);
             if (delay <= LAST_DELAY) {
-                facts[ANSWER][question] = turn;
-                facts[DELAY][question] = delay <= PLAIN_DELAY ? 0 : 1;
-                facts[INSERTS][question] = askingBetween(question, turn);
-                turns.facts[QUESTION][turn] = question;
+                note(question, turn, delay <= PLAIN_DELAY ? 0 : 1, askingBetween(question, turn));
+                put(turns.facts, QUESTION, turn, question);
             }
         }
 
         private int askingBetween(int question, int answer) {
             int many = 0;
             for (int turn = question + 1; turn < answer; turn++) {
-                many += turns.facts[ASKS][turn];
+                many += at(turns.facts, ASKS, turn);
             }
             return many;
         }
 
         int unanswered() {
             int many = 0;
-            for (int turn = 0; turn < turns.count(); turn++) {
-                many += turns.facts[ASKS][turn] == 1 && facts[ANSWER][turn] == NONE ? 1 : 0;
+            int all = turns.count();
+            for (int turn = 0; turn < all; turn++) {
+                many += at(turns.facts, ASKS, turn) == 1 && at(facts, ANSWER, turn) == NONE ? 1 : 0;
             }
             return many;
         }
 
         /** Whether each ANSWER follows its question, by another SPEAKER, and ANSWERS it alone. */
         boolean areSound() {
-            for (int question = 0; question < turns.count(); question++) {
-                int answer = facts[ANSWER][question];
-                if (answer != NONE && (answer <= question || turns.facts[QUESTION][answer] != question
-                        || turns.facts[SPEAKER][answer] == turns.facts[SPEAKER][question])) {
+            int all = turns.count();
+            for (int question = 0; question < all; question++) {
+                int answer = at(facts, ANSWER, question);
+                if (answer != NONE && !isAnswerTo(question, answer)) {
                     return false;
                 }
             }
             return true;
+        }
+
+        private boolean isAnswerTo(int question, int answer) {
+            return answer > question && at(turns.facts, QUESTION, answer) == question
+                    && at(turns.facts, SPEAKER, answer) != at(turns.facts, SPEAKER, question);
         }
     }
 }
